@@ -650,7 +650,8 @@ public final class StoppingPlanner {
                 long orders = (long) binomial(rank - 1, r - 1) * binomial(n - rank, i - r);
                 sum += parameters[PAYOFFS + rank - 1] * orders;
             }
-            return sum * (SCALE / binomial(n, i));
+            long all = binomial(n, i);
+            return all > 0 ? sum * (SCALE / all) : 0;
         }
 
         private long meanOfBest(int i, int j) {
@@ -761,10 +762,8 @@ public final class StoppingPlanner {
         }
 
         long valueOfFixed(int h, int k) {
-            for (int i = 1; i <= n; i++) {
-                followed[place(i, 0)] = 0;
-            }
-            for (int j = 0; j <= k; j++) {
+            // The places without a choice left stay 0; behind the last candidate, another n can have left its values.
+            for (int j = 1; j <= k; j++) {
                 followed[place(n + 1, j)] = 0;
             }
             for (int i = n; i >= 1; i--) {

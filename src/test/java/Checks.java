@@ -19,7 +19,8 @@ final class Checks {
         if (got != want) {
             wrong++;
             if (wrong <= 50) {
-                System.out.println(test + ", promise " + promise + ": " + call + " answered " + got + ", due is " + want);
+                System.out.println(test + ", promise " + promise + ": " + call
+                    + " answered " + got + ", due is " + want);
             }
         }
     }
@@ -39,6 +40,14 @@ final class Checks {
         if (wrong != 0) {
             System.exit(1);
         }
+    }
+
+    /** A planner that has loaded this text. */
+    static StoppingPlanner planner(String text) {
+        StoppingPlanner x = new StoppingPlanner();
+        typeText(x, text);
+        x.load();
+        return x;
     }
 
     static void typeText(StoppingPlanner x, String text) {

@@ -5,14 +5,12 @@ public final class DigestTest {
 
     public static void main(String[] args) {
         c.promise(33);
-        c.due("digest() after load() of an empty text", afterEmptyLoad(), 4537757410008869703L);
+        c.due("digest() after load() of an empty text", Checks.planner("").digest(), 4537757410008869703L);
         String[] texts = {
             "", "n1;", "n7;k3;c2;p50 40 30;w0 1 2 3 4;r5 2;", "n4;k2;r10 10;v9 8 7 6 5;c20;",
             "n6;k2;p0 99 0 5;c1;v0 0 0 99 98;w9 0 0 0 1;r0 7;"};
         for (String text : texts) {
-            StoppingPlanner x = new StoppingPlanner();
-            Checks.typeText(x, text);
-            x.load();
+            StoppingPlanner x = Checks.planner(text);
             check(x, text);
             x.setCount(2, 4);
             check(x, text + " and a cost of 4");
@@ -21,13 +19,6 @@ public final class DigestTest {
         }
         keepsTheDenominator();
         c.end();
-    }
-
-    private static long afterEmptyLoad() {
-        StoppingPlanner x = new StoppingPlanner();
-        Checks.typeText(x, "");
-        x.load();
-        return x.digest();
     }
 
     private static void add(long v) {

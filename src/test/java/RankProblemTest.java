@@ -17,28 +17,21 @@ public final class RankProblemTest {
         c.end();
     }
 
-    private static StoppingPlanner planner(String text) {
-        StoppingPlanner x = new StoppingPlanner();
-        Checks.typeText(x, text);
-        x.load();
-        return x;
-    }
-
     private static void worth() {
         c.promise(12);
-        StoppingPlanner x = planner("n3;p90 30 6;");
+        StoppingPlanner x = Checks.planner("n3;p90 30 6;");
         c.fraction("worth(1, 1)", x, x.worth(1, 1), 42, 1);
         c.fraction("worth(2, 1)", x, x.worth(2, 1), 70, 1);
         c.fraction("worth(2, 2)", x, x.worth(2, 2), 14, 1);
         c.fraction("worth(3, 1)", x, x.worth(3, 1), 90, 1);
         c.fraction("worth(3, 2)", x, x.worth(3, 2), 30, 1);
         c.fraction("worth(3, 3)", x, x.worth(3, 3), 6, 1);
-        x = planner("n7;p0 0 0 1;");
+        x = Checks.planner("n7;p0 0 0 1;");
         // of the C(7, 3) sets that candidates 1 to 3 can be, those in which rank 4 is the second one
         c.fraction("worth(3, 2)", x, x.worth(3, 2), 9, 35);
         c.fraction("worth(1, 1)", x, x.worth(1, 1), 1, 7);
         c.fraction("worth(6, 6)", x, x.worth(6, 6), 0, 1);
-        x = planner("n7;p0 0 0 0 0 0 7;");
+        x = Checks.planner("n7;p0 0 0 0 0 0 7;");
         c.fraction("worth(6, 6)", x, x.worth(6, 6), 6, 1);
         c.fraction("worth(7, 7)", x, x.worth(7, 7), 7, 1);
         wrongWorths(x, 7);
@@ -66,7 +59,7 @@ public final class RankProblemTest {
 
     private static void rankValue() {
         c.promise(13);
-        StoppingPlanner x = planner("n3;p99 0 0;");
+        StoppingPlanner x = Checks.planner("n3;p99 0 0;");
         c.fraction("rankValue(4, 1)", x, x.rankValue(4, 1), 0, 1);
         c.fraction("rankValue(3, 1)", x, x.rankValue(3, 1), 33, 1);
         c.fraction("rankValue(2, 1)", x, x.rankValue(2, 1), 99, 2);
@@ -77,10 +70,14 @@ public final class RankProblemTest {
         // the better one of 66 and 17, and of 0 and 17, minus 16
         c.fraction("rankValue(2, 1)", x, x.rankValue(2, 1), 51, 2);
         c.fraction("rankValue(1, 1)", x, x.rankValue(1, 1), 17, 1);
-        x = planner("n2;k2;p0 8;c5;");
+        // The last one is worth 20 on the average, and so is who is chosen as the first one: no more than the cost.
+        x = Checks.planner("n2;p40 0;c20;");
         c.fraction("rankValue(2, 1)", x, x.rankValue(2, 1), 0, 1);
         c.fraction("rankValue(1, 1)", x, x.rankValue(1, 1), 0, 1);
-        x = planner("n3;k3;p99 99 99;");
+        x = Checks.planner("n2;k2;p0 8;c5;");
+        c.fraction("rankValue(2, 1)", x, x.rankValue(2, 1), 0, 1);
+        c.fraction("rankValue(1, 1)", x, x.rankValue(1, 1), 0, 1);
+        x = Checks.planner("n3;k3;p99 99 99;");
         c.fraction("rankValue(1, 3)", x, x.rankValue(1, 3), 297, 1);
         c.fraction("rankValue(2, 3)", x, x.rankValue(2, 3), 198, 1);
         c.fraction("rankValue(1, 2)", x, x.rankValue(1, 2), 198, 1);
@@ -98,7 +95,7 @@ public final class RankProblemTest {
 
     private static void choosesRank() {
         c.promise(14);
-        StoppingPlanner x = planner("n3;p99;");
+        StoppingPlanner x = Checks.planner("n3;p99;");
         c.due("choosesRank(1, 1, 1)", x.choosesRank(1, 1, 1), 0);
         c.due("choosesRank(2, 1, 1)", x.choosesRank(2, 1, 1), 1);
         c.due("choosesRank(2, 1, 2)", x.choosesRank(2, 1, 2), 0);
@@ -106,7 +103,7 @@ public final class RankProblemTest {
         x.setCount(0, 2);
         // worth 99 / 2 as much as passing
         c.due("choosesRank(1, 1, 1)", x.choosesRank(1, 1, 1), 1);
-        x = planner("n3;k2;p99;c20;");
+        x = Checks.planner("n3;k2;p99;c20;");
         c.due("choosesRank(1, 2, 1) where one has quit", x.choosesRank(1, 2, 1), 1);
         c.due("choosesRank(1, 0, 1)", x.choosesRank(1, 0, 1), BAD);
         c.due("choosesRank(1, 3, 1)", x.choosesRank(1, 3, 1), BAD);
@@ -123,15 +120,15 @@ public final class RankProblemTest {
 
     private static void rankThreshold() {
         c.promise(15);
-        StoppingPlanner x = planner("n3;p99;");
+        StoppingPlanner x = Checks.planner("n3;p99;");
         c.due("rankThreshold(1, 1)", x.rankThreshold(1, 1), 0);
         c.due("rankThreshold(2, 1)", x.rankThreshold(2, 1), 1);
         c.due("rankThreshold(3, 1)", x.rankThreshold(3, 1), 3);
         // Rank 2 pays best: relative rank 1 of 2 is passed, relative rank 2 is chosen.
-        x = planner("n3;p0 90 0;");
+        x = Checks.planner("n3;p0 90 0;");
         c.due("choosesRank(2, 1, 1)", x.choosesRank(2, 1, 1), 1);
         c.due("rankThreshold(2, 1)", x.rankThreshold(2, 1), 2);
-        x = planner("n3;p0 0 90;");
+        x = Checks.planner("n3;p0 0 90;");
         c.due("choosesRank(2, 1, 1)", x.choosesRank(2, 1, 1), 0);
         c.due("choosesRank(2, 1, 2)", x.choosesRank(2, 1, 2), 1);
         c.due("rankThreshold(2, 1)", x.rankThreshold(2, 1), 0);
@@ -147,7 +144,7 @@ public final class RankProblemTest {
 
     private static void rankExpectation() {
         c.promise(16);
-        StoppingPlanner x = planner("n3;p99;");
+        StoppingPlanner x = Checks.planner("n3;p99;");
         c.fraction("rankExpectation(0)", x, x.rankExpectation(0), 5, 2);
         c.fraction("rankExpectation(1)", x, x.rankExpectation(1), 1, 1);
         c.fraction("rankExpectation(2)", x, x.rankExpectation(2), 1, 1);
@@ -158,16 +155,11 @@ public final class RankProblemTest {
         x.setCount(0, 2);
         c.fraction("rankExpectation(1)", x, x.rankExpectation(1), 2, 1);
         c.fraction("rankExpectation(2)", x, x.rankExpectation(2), 0, 1);
-        x = planner("p0;");
+        x = Checks.planner("p0;");
         for (int what = 0; what <= 2; what++) {
             c.fraction("rankExpectation(" + what + ") without payoffs", x, x.rankExpectation(what), 0, 1);
         }
-        // V(3, 1) = 0 at the cost of 20, so that one quits before candidate 3.
-        x = planner("n3;p48 0 0;c20;");
-        c.fraction("rankValue(2, 1)", x, x.rankValue(2, 1), 0, 1);
-        x = planner("n2;p40 0;c20;");
-        c.fraction("rankValue(1, 1)", x, x.rankValue(1, 1), 0, 1);
-        x = planner("n2;k2;p50 10;c20;");
+        x = Checks.planner("n2;k2;p50 10;c20;");
         // candidate 1 is worth 30, and one observes candidate 2 for 30 more than its cost
         c.fraction("rankExpectation(0)", x, x.rankExpectation(0), 2, 1);
         c.fraction("rankExpectation(2)", x, x.rankExpectation(2), 1, 1);
@@ -180,7 +172,7 @@ public final class RankProblemTest {
 
     private static void skipping() {
         c.promise(17);
-        StoppingPlanner x = planner("n3;p90 30 6;");
+        StoppingPlanner x = Checks.planner("n3;p90 30 6;");
         c.fraction("skipping(0)", x, x.skipping(0), 42, 1);
         // 1/2: 70 at once; else 1/3: 90 then
         c.fraction("skipping(1)", x, x.skipping(1), 50, 1);
@@ -191,7 +183,7 @@ public final class RankProblemTest {
         c.fraction("skipping(1)", x, x.skipping(1), 0, 1);
         c.fraction("skipping(2)", x, x.skipping(2), -30, 1);
         c.fraction("skipping(3)", x, x.skipping(3), -60, 1);
-        x = planner("n3;k2;p90 30 6;");
+        x = Checks.planner("n3;k2;p90 30 6;");
         c.fraction("skipping(0)", x, x.skipping(0), 42 + 35 + 15, 1);
         x.setCount(0, 7);
         x.setCount(2, 7);
@@ -208,13 +200,13 @@ public final class RankProblemTest {
 
     private static void bestSkip() {
         c.promise(18);
-        c.due("bestSkip()", planner("n3;p90 30 6;").bestSkip(), 1);
-        c.due("bestSkip()", planner("n3;p90 30 6;c20;").bestSkip(), 0);
-        c.due("bestSkip() of equal ones", planner("n2;p99 0;").bestSkip(), 0);
-        c.due("bestSkip() without payoffs", planner("p0;").bestSkip(), 0);
-        c.due("bestSkip()", planner("n3;p0 50 0;").bestSkip(), 0);
-        c.due("bestSkip()", planner("n7;p99;").bestSkip(), 2);
-        StoppingPlanner x = planner("n7;p99;");
+        c.due("bestSkip()", Checks.planner("n3;p90 30 6;").bestSkip(), 1);
+        c.due("bestSkip()", Checks.planner("n3;p90 30 6;c20;").bestSkip(), 0);
+        c.due("bestSkip() of equal ones", Checks.planner("n2;p99 0;").bestSkip(), 0);
+        c.due("bestSkip() without payoffs", Checks.planner("p0;").bestSkip(), 0);
+        c.due("bestSkip()", Checks.planner("n3;p0 50 0;").bestSkip(), 0);
+        c.due("bestSkip()", Checks.planner("n7;p99;").bestSkip(), 2);
+        StoppingPlanner x = Checks.planner("n7;p99;");
         x.worth(3, 1);
         long denominator = x.denominator();
         x.bestSkip();
@@ -227,18 +219,22 @@ public final class RankProblemTest {
             "n1;k1;p7;c3;", "n4;k2;p50 40 3 1;c4;", "n5;k3;p9 8 7 6 5;c6;", "n6;k1;p99 50;c12;",
             "n6;k2;p0 0 99;c2;", "n5;k2;p3 0 99 0 60;c19;", "n6;k3;p99 1 98 2 97 3;", "n4;k3;p0;"};
         for (String text : texts) {
-            StoppingPlanner x = planner(text);
+            StoppingPlanner x = Checks.planner(text);
             Orders orders = new Orders(x);
             int n = x.parameter(0);
+            int k = x.parameter(1);
             c.promise(13);
-            c.due("value of " + text, orders.isMean(orders.payoff, x.rankValue(1, x.parameter(1)), x.denominator()), true);
+            c.due("value of " + text, orders.isMean(orders.payoff, x.rankValue(1, k), x.denominator()), true);
             c.promise(16);
-            c.due("observations of " + text, orders.isMean(orders.observed, x.rankExpectation(0), x.denominator()), true);
-            c.due("choices of " + text, orders.isMean(orders.chosen, x.rankExpectation(1), x.denominator()), true);
-            c.due("all used of " + text, orders.isMean(orders.used, x.rankExpectation(2), x.denominator()), true);
+            long[] sums = {orders.observed, orders.chosen, orders.used};
+            for (int what = 0; what <= 2; what++) {
+                boolean isMean = orders.isMean(sums[what], x.rankExpectation(what), x.denominator());
+                c.due("rankExpectation(" + what + ") of " + text, isMean, true);
+            }
             c.promise(17);
             for (int s = 0; s <= n; s++) {
-                c.due("skipping(" + s + ") of " + text, orders.isMean(orders.skipped[s], x.skipping(s), x.denominator()), true);
+                boolean isMean = orders.isMean(orders.skipped[s], x.skipping(s), x.denominator());
+                c.due("skipping(" + s + ") of " + text, isMean, true);
             }
         }
     }

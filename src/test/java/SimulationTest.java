@@ -17,13 +17,6 @@ public final class SimulationTest {
         c.end();
     }
 
-    private static StoppingPlanner planner(String text) {
-        StoppingPlanner x = new StoppingPlanner();
-        Checks.typeText(x, text);
-        x.load();
-        return x;
-    }
-
     /** The numbers that are drawn, reckoned with longs modulo 2 to the 32nd. */
     private static final class Numbers {
         private long z;
@@ -45,7 +38,7 @@ public final class SimulationTest {
     /** n = 3, the best one only: pass the first one, then choose whoever is better, else the last one. */
     private static void secretaries() {
         c.promise(29);
-        StoppingPlanner x = planner("n3;p90 20 5;");
+        StoppingPlanner x = Checks.planner("n3;p90 20 5;");
         c.due("rankThreshold(1, 1)", x.rankThreshold(1, 1), 0);
         c.due("rankThreshold(2, 1)", x.rankThreshold(2, 1), 1);
         for (int number = 0; number < 400; number++) {
@@ -63,8 +56,8 @@ public final class SimulationTest {
 
     private static void allAreChosen() {
         c.promise(29);
-        StoppingPlanner x = planner("n3;k3;p50 40 30;c2;");
-        StoppingPlanner one = planner("n1;p98;c20;");
+        StoppingPlanner x = Checks.planner("n3;k3;p50 40 30;c2;");
+        StoppingPlanner one = Checks.planner("n1;p98;c20;");
         for (int seed : SEEDS) {
             c.due("simulateRanks(" + seed + ", 0)", x.simulateRanks(seed, 0), 120);
             c.due("simulateRanks(" + seed + ", 1)", x.simulateRanks(seed, 1), 3);
@@ -76,7 +69,7 @@ public final class SimulationTest {
     }
 
     private static void quitsAtOnce() {
-        StoppingPlanner x = planner("n4;k2;p20 20 20 20;c20;v20 20 20 20 20;r10 10;");
+        StoppingPlanner x = Checks.planner("n4;k2;p20 20 20 20;c20;v20 20 20 20 20;r10 10;");
         for (int seed : SEEDS) {
             c.promise(29);
             for (int what = 0; what <= 2; what++) {
@@ -118,7 +111,7 @@ public final class SimulationTest {
      */
     private static void oneSureRecall() {
         c.promise(30);
-        StoppingPlanner x = planner("n2;r0 9;");
+        StoppingPlanner x = Checks.planner("n2;r0 9;");
         int[] weights = {2, 2, 2, 2, 2};
         int recalled = 0;
         int missed = 0;
@@ -147,7 +140,7 @@ public final class SimulationTest {
     /** n = 1: whoever comes is chosen; levels without weight never come. */
     private static void levelsByWeight() {
         c.promise(30);
-        StoppingPlanner x = planner("n1;w0 7 0 3 0;v0 0 9 50 9;r10 10;");
+        StoppingPlanner x = Checks.planner("n1;w0 7 0 3 0;v0 0 9 50 9;r10 10;");
         int[] weights = {0, 7, 0, 3, 0};
         for (int number = 0; number < 100; number++) {
             int seed = seed(number);
@@ -162,9 +155,9 @@ public final class SimulationTest {
     private static void recallsBetweenObservations() {
         c.promise(30);
         // A sure recall draws a number, too, so that the next candidate's level is another one.
-        followPolicy(planner("n4;k2;r0 10;"));
-        followPolicy(planner("n7;k3;w1 2 3 2 2;v10 20 30 40 60;r6 9;c2;"));
-        followPolicy(planner("n7;k3;w3 0 0 6 1;v0 20 30 5 60;r10 4;c1;"));
+        followPolicy(Checks.planner("n4;k2;r0 10;"));
+        followPolicy(Checks.planner("n7;k3;w1 2 3 2 2;v10 20 30 40 60;r6 9;c2;"));
+        followPolicy(Checks.planner("n7;k3;w3 0 0 6 1;v0 20 30 5 60;r10 4;c1;"));
     }
 
     /** Asks the planner itself what the best policy does. */

@@ -147,7 +147,12 @@ public final class TextTest {
         fault("p1 2 3 4 5 6 7 8", 15, 2);
         fault("v1 2 3 4 5 6;", 11, 2);
         fault("w11 0 0 0 0;", 1, 2);
+        fault("w0 11 0 0 0;", 3, 2);
+        fault("w0 0 11 0 0;", 5, 2);
+        fault("w0 0 0 11 0;", 7, 2);
         fault("w0 0 0 0 11;", 9, 2);
+        fault("k1 1;", 3, 2);
+        fault("c1 1;", 3, 2);
         fault("w2 2 2 2 2 0;", 11, 2);
         fault("r11 0;", 1, 2);
         fault("r0 11;", 3, 2);

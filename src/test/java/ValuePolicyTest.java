@@ -12,9 +12,7 @@ public final class ValuePolicyTest {
             "n1;k1;r5 5;", "n3;k1;r5 9;", "n3;k2;r10 10;c3;", "n4;k2;r3 8;c7;w1 0 4 4 1;v3 99 20 20 50;",
             "n4;k3;r9 2;c2;v60 3 5 9 0;w1 1 1 1 6;", "n4;k1;r0 10;c20;", "n3;k3;r7 7;c0;v1 2 3 4 5;"};
         for (String text : texts) {
-            x = new StoppingPlanner();
-            Checks.typeText(x, text);
-            x.load();
+            x = Checks.planner(text);
             int n = x.parameter(0);
             int k = x.parameter(1);
             check(text, 1, k, 5, 5);

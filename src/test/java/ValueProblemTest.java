@@ -21,16 +21,9 @@ public final class ValueProblemTest {
         c.end();
     }
 
-    private static StoppingPlanner planner(String text) {
-        StoppingPlanner x = new StoppingPlanner();
-        Checks.typeText(x, text);
-        x.load();
-        return x;
-    }
-
     private static void situation() {
         c.promise(19);
-        StoppingPlanner x = planner("n2;");
+        StoppingPlanner x = Checks.planner("n2;");
         c.fraction("situation(2, 1, 5, 5)", x, x.situation(2, 1, 5, 5), 20, 1);
         c.fraction("situation(1, 1, 5, 5)", x, x.situation(1, 1, 5, 5), 26, 1);
         c.fraction("situation(3, 1, 4, 4) without recall", x, x.situation(3, 1, 4, 4), 0, 1);
@@ -44,7 +37,7 @@ public final class ValueProblemTest {
         c.fraction("situation(3, 1, 1, 4)", x, x.situation(3, 1, 1, 4), 40, 1);
         c.fraction("situation(3, 1, 3, 5)", x, x.situation(3, 1, 3, 5), 21, 1);
         c.fraction("situation(3, 0, 3, 4)", x, x.situation(3, 0, 3, 4), 0, 1);
-        x = planner("n1;r7 3;k2;v0 10 20 30 45;");
+        x = Checks.planner("n1;r7 3;k2;v0 10 20 30 45;");
         // the recall of 45 now, then candidate 2's mean of 21, or the recalls one after the other
         c.fraction("situation(1, 2, 4, 5)", x, x.situation(1, 2, 4, 5), 63 + 42, 2);
         c.fraction("situation(1, 1, 5, 4)", x, x.situation(1, 1, 5, 4), 141, 5);
@@ -80,7 +73,7 @@ public final class ValueProblemTest {
 
     private static void recalls() {
         c.promise(20);
-        StoppingPlanner x = planner("n2;k2;r5 5;");
+        StoppingPlanner x = Checks.planner("n2;k2;r5 5;");
         c.due("recalls(3, 1, 4, 3)", x.recalls(3, 1, 4, 3), 1);
         c.due("recalls(3, 1, 3, 4)", x.recalls(3, 1, 3, 4), 2);
         c.due("recalls(3, 1, 3, 3): equal ones", x.recalls(3, 1, 3, 3), 1);
@@ -90,19 +83,19 @@ public final class ValueProblemTest {
         c.due("recalls(3, 1, 1, 5)", x.recalls(3, 1, 1, 5), 1);
         c.due("recalls(3, 1, 5, 5)", x.recalls(3, 1, 5, 5), 0);
         c.due("recalls(3, 0, 4, 4)", x.recalls(3, 0, 4, 4), 0);
-        // One choice is left, and to recall 30 loses a mean of 26 or more.
-        c.due("recalls(1, 1, 3, 5)", planner("n2;r10 0;").recalls(1, 1, 3, 5), 1);
-        c.due("recalls(1, 1, 2, 5)", planner("n2;r10 0;").recalls(1, 1, 2, 5), 0);
-        c.due("recalls(3, 1, 4, 4) without chances", planner("n2;").recalls(3, 1, 4, 4), 0);
+        // 30 for sure is better than the 26 of going on, and 20 is not.
+        c.due("recalls(1, 1, 3, 5)", Checks.planner("n2;r10 0;").recalls(1, 1, 3, 5), 1);
+        c.due("recalls(1, 1, 2, 5)", Checks.planner("n2;r10 0;").recalls(1, 1, 2, 5), 0);
+        c.due("recalls(3, 1, 4, 4) without chances", Checks.planner("n2;").recalls(3, 1, 4, 4), 0);
         // An age 1 that can be recalled at the age 2 as surely is not recalled before it must be.
-        x = planner("n2;r10 10;");
+        x = Checks.planner("n2;r10 10;");
         c.due("recalls(2, 1, 2, 5)", x.recalls(2, 1, 2, 5), 0);
         c.due("recalls(3, 1, 1, 2)", x.recalls(3, 1, 1, 2), 2);
     }
 
     private static void observes() {
         c.promise(21);
-        StoppingPlanner x = planner("n2;c19;");
+        StoppingPlanner x = Checks.planner("n2;c19;");
         c.due("observes(1, 1, 5, 5)", x.observes(1, 1, 5, 5), 1);
         c.due("observes(2, 1, 5, 5)", x.observes(2, 1, 5, 5), 1);
         c.due("observes(3, 1, 5, 5)", x.observes(3, 1, 5, 5), 0);
@@ -110,7 +103,7 @@ public final class ValueProblemTest {
         x.setCount(2, 20);
         c.due("observes(2, 1, 5, 5): a value of 0", x.observes(2, 1, 5, 5), 0);
         // With age 1 now, a candidate can still be recalled after the last observation.
-        x = planner("n2;c20;r0 10;");
+        x = Checks.planner("n2;c20;r0 10;");
         c.due("observes(2, 1, 5, 5)", x.observes(2, 1, 5, 5), 0);
         c.due("observes(2, 1, 1, 5)", x.observes(2, 1, 1, 5), 1);
         c.due("observes(2, 1, 5, 4)", x.observes(2, 1, 5, 4), 0);
@@ -118,7 +111,7 @@ public final class ValueProblemTest {
 
     private static void choosesLevel() {
         c.promise(22);
-        StoppingPlanner x = planner("n2;");
+        StoppingPlanner x = Checks.planner("n2;");
         c.due("choosesLevel(1, 1, 5, 1)", x.choosesLevel(1, 1, 5, 1), 0);
         c.due("choosesLevel(1, 1, 5, 2): as good as passing", x.choosesLevel(1, 1, 5, 2), 1);
         c.due("choosesLevel(1, 1, 5, 3)", x.choosesLevel(1, 1, 5, 3), 1);
@@ -128,7 +121,7 @@ public final class ValueProblemTest {
         c.due("choosesLevel(1, 1, 5, 4)", x.choosesLevel(1, 1, 5, 4), 1);
         c.due("choosesLevel(2, 1, 3, 2)", x.choosesLevel(2, 1, 3, 2), 0);
         c.due("choosesLevel(2, 1, 3, 3)", x.choosesLevel(2, 1, 3, 3), 1);
-        x = planner("n2;w0 0 0 0 10;");
+        x = Checks.planner("n2;w0 0 0 0 10;");
         c.due("choosesLevel(1, 1, 5, 3): a level without weight", x.choosesLevel(1, 1, 5, 3), 0);
         int[][] wrong = {{0, 1, 5, 0}, {3, 1, 5, 0}, {1, 0, 5, 0}, {1, 2, 5, 0}, {1, 1, -1, 0}, {1, 1, 6, 0},
             {1, 1, 5, -1}, {1, 1, 5, 5}};
@@ -146,20 +139,21 @@ public final class ValueProblemTest {
 
     private static void valueThreshold() {
         c.promise(23);
-        StoppingPlanner x = planner("n2;");
+        StoppingPlanner x = Checks.planner("n2;");
         c.due("valueThreshold(1, 1, 5)", x.valueThreshold(1, 1, 5), 20);
         c.due("valueThreshold(2, 1, 5)", x.valueThreshold(2, 1, 5), 0);
         x.setRecall(2, 10);
         c.due("valueThreshold(1, 1, 5)", x.valueThreshold(1, 1, 5), 40);
         c.due("valueThreshold(2, 1, 3)", x.valueThreshold(2, 1, 3), 30);
         // The levels need not be in the order of their values.
-        c.due("valueThreshold(1, 1, 5)", planner("n2;v30 40 20 0 10;").valueThreshold(1, 1, 5), 20);
+        c.due("valueThreshold(1, 1, 5)", Checks.planner("n2;v30 40 20 0 10;").valueThreshold(1, 1, 5), 20);
         // Only 0 and 1 come, and a 99 is remembered, which is recalled for sure.
-        x = planner("n2;v0 1 0 1 99;w5 5 0 0 0;r10 10;");
+        x = Checks.planner("n2;v0 1 0 1 99;w5 5 0 0 0;r10 10;");
         c.due("valueThreshold(2, 1, 4)", x.valueThreshold(2, 1, 4), 99);
-        c.due("valueThreshold(1, 1, 5): equal ones", planner("n3;v9 9 9 9 9;r10 10;").valueThreshold(1, 1, 5), 9);
+        x = Checks.planner("n3;v9 9 9 9 9;r10 10;");
+        c.due("valueThreshold(1, 1, 5): equal ones, recalled for sure", x.valueThreshold(1, 1, 5), 9);
         // A level without a weight counts, too: 20 is as good as the mean that follows.
-        x = planner("n2;v20 0 40 0 40;w0 5 5 0 0;");
+        x = Checks.planner("n2;v20 0 40 0 40;w0 5 5 0 0;");
         c.due("valueThreshold(1, 1, 5): without weight", x.valueThreshold(1, 1, 5), 20);
         greatestLevelIsChosen();
         int[][] wrong = {{0, 1, 5}, {3, 1, 5}, {1, 0, 5}, {1, 2, 5}, {1, 1, -1}, {1, 1, 6}};
@@ -179,7 +173,7 @@ public final class ValueProblemTest {
     private static void greatestLevelIsChosen() {
         String[] texts = {"n7;k1;r10 10;", "n6;k3;v5 99 3 0 1;w4 0 3 2 1;r9 10;", "n4;k2;v0 0 0 0 0;r10 10;c20;"};
         for (String text : texts) {
-            StoppingPlanner x = planner(text);
+            StoppingPlanner x = Checks.planner(text);
             int greatest = text.contains("v5") ? 1 : 4;
             for (int i = 1; i <= x.parameter(0); i++) {
                 for (int j = 1; j <= x.parameter(1); j++) {
@@ -194,7 +188,7 @@ public final class ValueProblemTest {
 
     private static void fixed() {
         c.promise(24);
-        StoppingPlanner x = planner("n2;");
+        StoppingPlanner x = Checks.planner("n2;");
         c.fraction("fixed(0)", x, x.fixed(0), 20, 1);
         c.fraction("fixed(10)", x, x.fixed(10), 24, 1);
         c.fraction("fixed(11)", x, x.fixed(11), 126, 5);
@@ -225,13 +219,13 @@ public final class ValueProblemTest {
 
     private static void bestFixed() {
         c.promise(25);
-        c.due("bestFixed()", planner("n2;").bestFixed(), 11);
-        c.due("bestFixed()", planner("n1;").bestFixed(), 0);
-        c.due("bestFixed()", planner("n7;").bestFixed(), 21);
-        c.due("bestFixed() of equal ones", planner("n5;v9 9 9 9 9;").bestFixed(), 0);
-        c.due("bestFixed() for the greatest value", planner("n7;v98 98 98 98 99;w1 0 0 0 9;").bestFixed(), 99);
-        c.due("bestFixed() at any cost", planner("n7;v0 0 0 0 1;c20;").bestFixed(), 0);
-        StoppingPlanner x = planner("n4;k2;v60 3 60 17 44;w1 2 3 2 2;c3;");
+        c.due("bestFixed()", Checks.planner("n2;").bestFixed(), 11);
+        c.due("bestFixed()", Checks.planner("n1;").bestFixed(), 0);
+        c.due("bestFixed()", Checks.planner("n7;").bestFixed(), 21);
+        c.due("bestFixed() of equal ones", Checks.planner("n5;v9 9 9 9 9;").bestFixed(), 0);
+        c.due("bestFixed() for the greatest value", Checks.planner("n7;v98 98 98 98 99;w1 0 0 0 9;").bestFixed(), 99);
+        c.due("bestFixed() at any cost", Checks.planner("n7;v0 0 0 0 1;c20;").bestFixed(), 0);
+        StoppingPlanner x = Checks.planner("n4;k2;v60 3 60 17 44;w1 2 3 2 2;c3;");
         int best = 0;
         for (int h = 0; h <= 99; h++) {
             long n = x.fixed(h);
@@ -249,7 +243,7 @@ public final class ValueProblemTest {
 
     private static void recallGain() {
         c.promise(26);
-        StoppingPlanner x = planner("n2;");
+        StoppingPlanner x = Checks.planner("n2;");
         c.fraction("recallGain()", x, x.recallGain(), 0, 1);
         x.setRecall(1, 10);
         c.fraction("recallGain() where age 1 brings nothing", x, x.recallGain(), 0, 1);
@@ -264,6 +258,11 @@ public final class ValueProblemTest {
         c.due("parameter(21)", x.parameter(21), 9);
         c.due("count(1)", x.count(1), 4);
         c.fraction("situation(1, 1, 5, 5)", x, x.situation(1, 1, 5, 5), n, d);
+        x.setRecall(2, 10);
+        for (int level = 1; level <= 4; level++) {
+            x.setLevel(level, 20 * level);
+        }
+        c.fraction("recallGain() with twice the values", x, x.recallGain(), 4, 1);
     }
 
     private static long gcd(long a, long b) {
@@ -272,8 +271,13 @@ public final class ValueProblemTest {
 
     private static void price() {
         c.promise(27);
-        StoppingPlanner x = planner("n2;");
+        StoppingPlanner x = Checks.planner("n2;");
         c.fraction("price(true)", x, x.price(true), 14, 1);
+        x = Checks.planner("n3;");
+        c.fraction("price(true) of a second choice", x, x.price(true), 20, 1);
+        x.setCount(1, 2);
+        c.fraction("price(true) of a third choice", x, x.price(true), 52, 5);
+        x = Checks.planner("n2;");
         x.setRecall(2, 10);
         c.fraction("price(true)", x, x.price(true), 12, 1);
         x.setCount(0, 3);
@@ -314,13 +318,13 @@ public final class ValueProblemTest {
 
     private static void greatestNumbers() {
         c.promise(19);
-        StoppingPlanner x = planner("n7;k3;v99 99 99 99 99;r10 10;");
+        StoppingPlanner x = Checks.planner("n7;k3;v99 99 99 99 99;r10 10;");
         c.fraction("situation(1, 3, 0, 0)", x, x.situation(1, 3, 0, 0), 297, 1);
         c.fraction("situation(8, 3, 0, 0)", x, x.situation(8, 3, 0, 0), 99, 1);
         x.setRecall(1, 9);
         x.setRecall(2, 7);
         c.fraction("situation(1, 3, 0, 0)", x, x.situation(1, 3, 0, 0), 297, 1);
-        x = planner("n7;k3;v91 71 99 80 51;w1 1 1 6 1;r9 9;");
+        x = Checks.planner("n7;k3;v91 71 99 80 51;w1 1 1 6 1;r9 9;");
         c.fraction("situation(1, 3, 2, 2)", x, x.situation(1, 3, 2, 2), 286718639272243717L, 1000000000000000L);
     }
 }
