@@ -17,20 +17,6 @@ public final class SimulationTest {
         c.end();
     }
 
-    /** The numbers that are drawn, reckoned with longs modulo 2 to the 32nd. */
-    private static final class Numbers {
-        private long z;
-
-        Numbers(int seed) {
-            z = seed & 0xFFFFFFFFL;
-        }
-
-        int next() {
-            z = (z * 1103515245L + 12345L) & 0xFFFFFFFFL;
-            return (int) (z / 65536 % 32768);
-        }
-    }
-
     private static int seed(int number) {
         return number < SEEDS.length ? SEEDS[number] : number * 7654321;
     }
