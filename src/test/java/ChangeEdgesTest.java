@@ -35,8 +35,8 @@ public final class ChangeEdgesTest {
     // ---- changes
 
     private static void changesThatChangeNothing() {
-        c.sentence(0, "Changes are the successful calls of load, setCount, setPayoff, setLevel, setRecall and shiftWeight,"
-            + " also those by which everything stays the same.");
+        c.sentence(0, "Changes are the successful calls of load, setCount, setPayoff, setLevel, setRecall and"
+            + " shiftWeight, also those by which everything stays the same.");
         Map<String, ToLongFunction<StoppingPlanner>> calls = calls();
         calls.put("load() of an empty text", x -> x.load());
         calls.put("setCount(0, 5)", x -> x.setCount(0, 5));
@@ -70,7 +70,8 @@ public final class ChangeEdgesTest {
     }
 
     private static void otherCallsAreNoChanges() {
-        c.sentence(0, "Changes are the successful calls of load, setCount, setPayoff, setLevel, setRecall and shiftWeight,");
+        c.sentence(0, "Changes are the successful calls of load, setCount, setPayoff, setLevel, setRecall and"
+            + " shiftWeight,");
         StoppingPlanner x = new StoppingPlanner();
         x.type('x');
         x.load();
@@ -172,7 +173,8 @@ public final class ChangeEdgesTest {
     }
 
     private static void oldestIsDropped() {
-        c.sentence(0, "when one more is recorded, the oldest one is dropped; undo restores the latest one and removes it.");
+        c.sentence(0, "when one more is recorded, the oldest one is dropped; undo restores the latest one and removes"
+            + " it.");
         for (int changes = 1; changes <= 20; changes++) {
             StoppingPlanner x = new StoppingPlanner();
             for (int change = 1; change <= changes; change++) {
@@ -230,8 +232,8 @@ public final class ChangeEdgesTest {
     // ---- errors
 
     private static void codes() {
-        c.sentence(0, "The error codes are BAD (-1: an argument is out of its range), STATE (-2: the call is not possible now, as"
-            + " the method says) and FULL (-3: there is no room).");
+        c.sentence(0, "The error codes are BAD (-1: an argument is out of its range), STATE (-2: the call is not"
+            + " possible now, as the method says) and FULL (-3: there is no room).");
         c.due("BAD", StoppingPlanner.BAD, -1);
         c.due("STATE", StoppingPlanner.STATE, -2);
         c.due("FULL", StoppingPlanner.FULL, -3);
@@ -384,8 +386,8 @@ public final class ChangeEdgesTest {
     }
 
     private static void noneIsNoCode() {
-        c.sentence(0, "NONE (-9) is no error code; it means that there is no such thing, and is returned only if no error code"
-            + " applies.");
+        c.sentence(0, "NONE (-9) is no error code; it means that there is no such thing, and is returned only if no"
+            + " error code applies.");
         c.due("NONE", NONE, -9);
         StoppingPlanner x = Checks.planner("v0 0 0 0 0;");
         c.due("valueThreshold(0, 1, 5)", x.valueThreshold(0, 1, 5), BAD);
@@ -397,7 +399,8 @@ public final class ChangeEdgesTest {
     }
 
     private static void badFraction() {
-        c.sentence(0, "Fractions can be negative; a method that returns a fraction returns BAD_FRACTION instead of BAD.");
+        c.sentence(0, "Fractions can be negative; a method that returns a fraction returns BAD_FRACTION instead of"
+            + " BAD.");
         c.due("BAD_FRACTION", BAD_FRACTION, -4000000000000000000L);
         StoppingPlanner x = Checks.planner("c1;p0;");
         // The third candidate is observed with the chance 1 / 2, the fourth one with 1 / 3, the fifth one with 1 / 4.
@@ -451,5 +454,17 @@ public final class ChangeEdgesTest {
         c.due("values for one candidate", valuesOf(x), one);
         c.due("undo()", x.undo(), 0);
         c.due("values for five candidates", valuesOf(x), valuesOf(new StoppingPlanner()));
+        // A state is that of the parameters; text, fault and denominator are none.
+        Checks.typeText(x, "n7;");
+        x.load();
+        Checks.typeText(x, "n8");
+        x.load();
+        x.fixed(30);
+        long denominator = x.denominator();
+        c.due("undo()", x.undo(), 0);
+        c.due("parameter(0)", x.parameter(0), 5);
+        c.due("count(0)", x.count(0), 2);
+        c.due("faultKind()", x.faultKind(), 2);
+        c.due("denominator()", x.denominator(), denominator);
     }
 }

@@ -5,9 +5,9 @@ import java.util.function.ToLongFunction;
 /** The boundaries that the document names for fractions, the fixed rule, gains and prices: a test for each sentence. */
 public final class FractionEdgesTest {
     private static final long BAD_FRACTION = StoppingPlanner.BAD_FRACTION;
-    private static final String FIXED = "The fixed rule with h (0 to 99): each candidate with a value of at least h is chosen, until"
-        + " no choice is left or no candidate; each observation costs c, nobody recalls, and nobody quits as long as a choice is"
-        + " left and a candidate comes.";
+    private static final String FIXED = "The fixed rule with h (0 to 99): each candidate with a value of at least h is"
+        + " chosen, until no choice is left or no candidate; each observation costs c, nobody recalls, and nobody"
+        + " quits as long as a choice is left and a candidate comes.";
     private static final Checks c = new Checks("FractionEdgesTest");
 
     public static void main(String[] args) {
@@ -18,10 +18,12 @@ public final class FractionEdgesTest {
         fixedUntilNoChoiceIsLeft();
         fixedNeverRecalls();
         fixedNeverQuits();
+        fixedRange();
         fixedRefuses();
         bestFixedIsTheSmallest();
         recallGainOfNothing();
         recallGainChangesNothing();
+        priceOfWhat();
         priceOfOneMore();
         priceChangesNothing();
         priceRefuses();
@@ -34,10 +36,12 @@ public final class FractionEdgesTest {
     // ---- the description: fractions
 
     private static void lowestTerms() {
-        c.sentence(0, "A method that returns a fraction returns its numerator; denominator() returns the denominator of the latest"
-            + " fraction that was returned, which is in lowest terms with a positive denominator (0 is 0 / 1).");
+        c.sentence(0, "A method that returns a fraction returns its numerator; denominator() returns the denominator"
+            + " of the latest fraction that was returned, which is in lowest terms with a positive denominator (0 is 0"
+            + " / 1).");
         String[] texts = {
-            "n7;k2;c3;p90 45 30 7 6 2 1;v3 9 27 81 99;w1 2 3 3 1;r7 9;", "n6;k1;c20;p99;r5 5;", "n1;k1;", "n4;k2;c13;p1 2 3 4;r3 8;",
+            "n7;k2;c3;p90 45 30 7 6 2 1;v3 9 27 81 99;w1 2 3 3 1;r7 9;", "n6;k1;c20;p99;r5 5;", "n1;k1;",
+            "n4;k2;c13;p1 2 3 4;r3 8;",
             "n7;k1;c1;p0;v0 0 0 0 0;", "n5;k2;c19;v99 0 0 0 1;w1 9 0 0 0;"};
         for (String text : texts) {
             StoppingPlanner x = Checks.planner(text);
@@ -155,8 +159,8 @@ public final class FractionEdgesTest {
     }
 
     private static void fixedUntilNoChoiceIsLeft() {
-        c.sentence(0, "each candidate with a value of at least h is chosen, until no choice is left or no candidate; each observation"
-            + " costs c,");
+        c.sentence(0, "each candidate with a value of at least h is chosen, until no choice is left or no candidate;"
+            + " each observation costs c,");
         for (int n = 1; n <= 7; n++) {
             for (int k = 1; k <= 3; k++) {
                 StoppingPlanner x = Checks.planner("n" + n + ";k" + k + ";c5;v9 9 9 9 9;");
@@ -198,10 +202,22 @@ public final class FractionEdgesTest {
 
     // ---- promises 24 to 27
 
-    private static void fixedRefuses() {
-        c.sentence(24, "Returns the numerator; BAD_FRACTION if h is out of range.");
+    private static void fixedRange() {
+        c.sentence(24, "- `h`: 0 to 99");
         StoppingPlanner x = new StoppingPlanner();
         c.range("fixed(h)", 0, 99, BAD_FRACTION, x::fixed);
+    }
+
+    private static void fixedRefuses() {
+        c.sentence(24, "Returns the numerator; BAD_FRACTION if h is out of range.");
+        StoppingPlanner x = Checks.planner("n1;v0 0 0 0 99;w0 0 0 7 3;");
+        c.due("fixed(-1)", x.fixed(-1), BAD_FRACTION);
+        c.due("fixed(100)", x.fixed(100), BAD_FRACTION);
+        c.due("denominator() where no fraction was returned", x.denominator(), 1);
+        c.fraction("fixed(0)", x, x.fixed(0), 297, 10);
+        c.fraction("fixed(99)", x, x.fixed(99), 297, 10);
+        c.due("fixed(100)", x.fixed(100), BAD_FRACTION);
+        c.due("denominator()", x.denominator(), 10);
     }
 
     private static void bestFixedIsTheSmallest() {
@@ -211,14 +227,15 @@ public final class FractionEdgesTest {
         c.due("bestFixed() of values of 0", Checks.planner("n7;v0 0 0 0 0;").bestFixed(), 0);
         for (int value = 0; value <= 98; value++) {
             // One waits for 99, which comes soon: the smallest h is the one above the other value.
-            StoppingPlanner x = Checks.planner("n7;v0 0 0 0 99;w1 0 0 0 9;");
-            for (int level = 0; level <= 3; level++) {
-                x.setLevel(level, value);
-            }
+            int level = value % 5;
+            StoppingPlanner x = Checks.planner("n7;v99 99 99 99 99;");
+            x.setLevel(level, value);
+            x.shiftWeight(level, (level + 1) % 5, 1);
             c.due("bestFixed() of 99 and " + value, x.bestFixed(), value + 1);
         }
         String[] texts = {
-            "n5;k1;", "n7;k3;c4;v99 1 50 7 20;w1 4 1 2 2;", "n2;k2;c20;", "n3;k1;v40 30 20 10 0;", "n7;k2;c1;v5 5 6 6 7;",
+            "n5;k1;", "n7;k3;c4;v99 1 50 7 20;w1 4 1 2 2;", "n2;k2;c20;", "n3;k1;v40 30 20 10 0;",
+            "n7;k2;c1;v5 5 6 6 7;",
             "n4;k3;v0 0 1 1 1;c20;"};
         for (String text : texts) {
             isTheSmallestBest(text, Checks.planner(text));
@@ -230,13 +247,14 @@ public final class FractionEdgesTest {
         Model.Fraction most = Model.Fraction.of(x.fixed(best), x.denominator());
         for (int h = 0; h <= 99; h++) {
             int comparison = most.compareTo(Model.Fraction.of(x.fixed(h), x.denominator()));
-            c.due("fixed(" + best + ") is better than fixed(" + h + ") of " + text, h < best ? comparison > 0 : comparison >= 0, true);
+            c.due("fixed(" + best + ") is better than fixed(" + h + ") of " + text,
+                h < best ? comparison > 0 : comparison >= 0, true);
         }
     }
 
     private static void recallGainOfNothing() {
-        c.sentence(26, "Returns the gain by recalls, as a fraction: S(1, k, 5, 5) minus what it would be if both recall chances were"
-            + " 0.");
+        c.sentence(26, "Returns the gain by recalls, as a fraction: S(1, k, 5, 5) minus what it would be if both"
+            + " recall chances were 0.");
         StoppingPlanner x = Checks.planner("n2;");
         c.fraction("recallGain() without chances", x, x.recallGain(), 0, 1);
         x.setRecall(2, 10);
@@ -245,6 +263,9 @@ public final class FractionEdgesTest {
         c.fraction("recallGain(): both chances count as 0", x, x.recallGain(), 2, 1);
         x.setRecall(2, 0);
         c.fraction("recallGain(): age 1 brings nothing", x, x.recallGain(), 0, 1);
+        // The order of the levels does not matter, and nobody is remembered at first.
+        x = Checks.planner("n2;v40 30 20 10 0;r10 10;");
+        c.fraction("recallGain() with the greatest level first", x, x.recallGain(), 2, 1);
         x = Checks.planner("n1;k3;r10 10;");
         c.fraction("recallGain() of one candidate", x, x.recallGain(), 0, 1);
         x = Checks.planner("n7;k3;c20;r10 10;");
@@ -273,6 +294,22 @@ public final class FractionEdgesTest {
         c.due("count(1) after " + call, x.count(1), untouched.count(1));
     }
 
+    private static void priceOfWhat() {
+        c.sentence(27, "- `values`: true for S(1, k, 5, 5), false for V(1, k)");
+        StoppingPlanner x = Checks.planner("n2;p50;");
+        c.fraction("price(true): 40 instead of 26", x, x.price(true), 14, 1);
+        c.fraction("price(false): all of 50 instead of its half", x, x.price(false), 25, 1);
+        // The order of the levels does not matter, and nobody is remembered at first.
+        x = Checks.planner("n2;v40 30 20 10 0;r10 10;");
+        c.fraction("price(true) with the greatest level first", x, x.price(true), 12, 1);
+        x = Checks.planner("n2;p0;");
+        c.fraction("price(true) without payoffs", x, x.price(true), 14, 1);
+        c.fraction("price(false) without payoffs", x, x.price(false), 0, 1);
+        x = Checks.planner("n2;p50;v0 0 0 0 0;");
+        c.fraction("price(true) without values", x, x.price(true), 0, 1);
+        c.fraction("price(false) without values", x, x.price(false), 25, 1);
+    }
+
     private static void priceOfOneMore() {
         c.sentence(27, "Returns the numerator of the value with k + 1 choices minus that with k choices;");
         String[] texts = {"n1;", "n2;r0 10;", "n5;", "n7;c3;p90 80 70;r5 9;", "n3;c20;p0;"};
@@ -292,12 +329,11 @@ public final class FractionEdgesTest {
                 c.due("price(false) with " + k + ", " + text, price.compareTo(more.minus(now)), 0);
             }
         }
-        StoppingPlanner x = Checks.planner("n1;k1;p50;");
-        c.fraction("price(true) of a choice too many", x, x.price(true), 0, 1);
-        c.fraction("price(false) of a choice too many", x, x.price(false), 0, 1);
-        x.setCount(0, 2);
-        c.fraction("price(true): 40 instead of 26", x, x.price(true), 14, 1);
-        c.fraction("price(false): all of 50 instead of its half", x, x.price(false), 25, 1);
+        for (int n = 1; n <= 2; n++) {
+            StoppingPlanner x = Checks.planner("n" + n + ";k" + n + ";p50;");
+            c.fraction("price(true) of a choice too many", x, x.price(true), 0, 1);
+            c.fraction("price(false) of a choice too many", x, x.price(false), 0, 1);
+        }
     }
 
     private static void priceChangesNothing() {
@@ -347,7 +383,8 @@ public final class FractionEdgesTest {
     }
 
     private static void badFractionIsNone() {
-        c.sentence(28, "Returns the denominator of the latest fraction that was returned (BAD_FRACTION is no fraction).");
+        c.sentence(28, "Returns the denominator of the latest fraction that was returned (BAD_FRACTION is no"
+            + " fraction).");
         Map<String, ToLongFunction<StoppingPlanner>> calls = new LinkedHashMap<>();
         calls.put("worth(2, 3)", x -> x.worth(2, 3));
         calls.put("rankValue(7, 1)", x -> x.rankValue(7, 1));

@@ -15,9 +15,13 @@ public final class ParameterEdgesTest {
         newObject();
         setCountWhat();
         setCountRefuses();
+        setPayoffRanges();
         setPayoffRefuses();
+        setLevelRanges();
         setLevelRefuses();
+        setRecallRanges();
         setRecallRefuses();
+        shiftWeightLevels();
         shiftWeightAmount();
         shiftWeightRefuses();
         parameterNumbers();
@@ -31,7 +35,8 @@ public final class ParameterEdgesTest {
     // ---- the description
 
     private static void candidatesAndChoices() {
-        c.sentence(0, "There are n candidates (1 to 7, initially 5), of which at most k can be chosen (1 to 3, initially 1).");
+        c.sentence(0, "There are n candidates (1 to 7, initially 5), of which at most k can be chosen (1 to 3,"
+            + " initially 1).");
         StoppingPlanner x = new StoppingPlanner();
         c.due("parameter(0)", x.parameter(0), 5);
         c.due("parameter(1)", x.parameter(1), 1);
@@ -72,7 +77,8 @@ public final class ParameterEdgesTest {
     }
 
     private static void payoffs() {
-        c.sentence(0, "There are payoffs for the ranks 1 to 7 (0 to 99 each, initially 99 for rank 1 and 0 for the others).");
+        c.sentence(0, "There are payoffs for the ranks 1 to 7 (0 to 99 each, initially 99 for rank 1 and 0 for the"
+            + " others).");
         StoppingPlanner x = new StoppingPlanner();
         for (int rank = 1; rank <= 7; rank++) {
             c.due("parameter(" + (2 + rank) + ")", x.parameter(2 + rank), rank == 1 ? 99 : 0);
@@ -90,8 +96,13 @@ public final class ParameterEdgesTest {
     }
 
     private static void levelsAndWeights() {
-        c.sentence(0, "There is a distribution of values: five levels, 0 to 4, each with a value (0 to 99) and a weight"
-            + " (0 to 10); the sum of the weights is 10.");
+        c.sentence(0, "There is a distribution of values: five levels, 0 to 4, each with a value (0 to 99) and a"
+            + " weight (0 to 10); the sum of the weights is 10. Initially the values are 0, 10, 20, 30, 40, and all"
+            + " weights are 2.");
+        for (int level = 0; level <= 4; level++) {
+            c.due("parameter(" + (10 + level) + ")", new StoppingPlanner().parameter(10 + level), 10 * level);
+            c.due("parameter(" + (15 + level) + ")", new StoppingPlanner().parameter(15 + level), 2);
+        }
         for (int level = 0; level <= 4; level++) {
             StoppingPlanner x = new StoppingPlanner();
             int which = level;
@@ -151,8 +162,8 @@ public final class ParameterEdgesTest {
     // ---- promise 1: a new object
 
     private static void newObject() {
-        c.sentence(1, "Creates a planner with the initial parameters and an empty text buffer; there are no recorded states,"
-            + " and denominator() returns 1.");
+        c.sentence(1, "Creates a planner with the initial parameters and an empty text buffer; there are no recorded"
+            + " states, and denominator() returns 1.");
         StoppingPlanner x = new StoppingPlanner();
         c.due("denominator()", x.denominator(), 1);
         for (int what = 0; what <= 21; what++) {
@@ -211,6 +222,16 @@ public final class ParameterEdgesTest {
         }
     }
 
+    private static void setPayoffRanges() {
+        c.sentence(7, "- `rank`: the rank, 1 to 7 - `v`: the new payoff, 0 to 99");
+        StoppingPlanner x = new StoppingPlanner();
+        c.range("setPayoff(rank, 0)", 1, 7, BAD, rank -> x.setPayoff(rank, 0));
+        c.range("setPayoff(1, v)", 0, 99, BAD, v -> x.setPayoff(1, v));
+        c.range("setPayoff(7, v)", 0, 99, BAD, v -> x.setPayoff(7, v));
+        x.setCount(0, 1);
+        c.due("setPayoff(7, 8) with one candidate", x.setPayoff(7, 8), 99);
+    }
+
     private static void setPayoffRefuses() {
         c.sentence(7, "Returns the payoff before; BAD if rank or v is out of range.");
         StoppingPlanner x = new StoppingPlanner();
@@ -221,10 +242,20 @@ public final class ParameterEdgesTest {
         c.due("setPayoff(7, 99)", x.setPayoff(7, 99), 0);
         c.due("setPayoff(7, 100)", x.setPayoff(7, 100), BAD);
         c.due("setPayoff(7, 99)", x.setPayoff(7, 99), 99);
-        c.range("setPayoff(rank, 0)", 1, 7, BAD, rank -> x.setPayoff(rank, 0));
-        c.range("setPayoff(7, v)", 0, 99, BAD, v -> x.setPayoff(7, v));
+        c.due("setPayoff(0, 5)", x.setPayoff(0, 5), BAD);
+        c.due("setPayoff(8, 5)", x.setPayoff(8, 5), BAD);
+        c.due("setPayoff(8, 100)", x.setPayoff(8, 100), BAD);
+        c.due("parameter(9)", x.parameter(9), 99);
         c.due("parameter(2)", x.parameter(2), 0);
         c.due("parameter(10)", x.parameter(10), 0);
+    }
+
+    private static void setLevelRanges() {
+        c.sentence(8, "- `level`: the level, 0 to 4 - `v`: the new value, 0 to 99");
+        StoppingPlanner x = new StoppingPlanner();
+        c.range("setLevel(level, 8)", 0, 4, BAD, level -> x.setLevel(level, 8));
+        c.range("setLevel(0, v)", 0, 99, BAD, v -> x.setLevel(0, v));
+        c.range("setLevel(4, v)", 0, 99, BAD, v -> x.setLevel(4, v));
     }
 
     private static void setLevelRefuses() {
@@ -236,26 +267,50 @@ public final class ParameterEdgesTest {
         c.due("setLevel(0, -1)", x.setLevel(0, -1), BAD);
         c.due("setLevel(4, 99)", x.setLevel(4, 99), 40);
         c.due("setLevel(4, 99)", x.setLevel(4, 99), 99);
-        c.range("setLevel(level, 8)", 0, 4, BAD, level -> x.setLevel(level, 8));
-        c.range("setLevel(4, v)", 0, 99, BAD, v -> x.setLevel(4, v));
+        c.due("setLevel(-1, 5)", x.setLevel(-1, 5), BAD);
+        c.due("setLevel(5, 5)", x.setLevel(5, 5), BAD);
+        c.due("setLevel(5, 100)", x.setLevel(5, 100), BAD);
+        c.due("parameter(14)", x.parameter(14), 99);
         c.due("parameter(9)", x.parameter(9), 0);
         c.due("parameter(15)", x.parameter(15), 2);
+    }
+
+    private static void setRecallRanges() {
+        c.sentence(9, "- `age`: the age, 1 or 2 - `tenths`: the new chance, 0 to 10");
+        StoppingPlanner x = new StoppingPlanner();
+        c.range("setRecall(age, 3)", 1, 2, BAD, age -> x.setRecall(age, 3));
+        c.range("setRecall(1, tenths)", 0, 10, BAD, tenths -> x.setRecall(1, tenths));
+        c.range("setRecall(2, tenths)", 0, 10, BAD, tenths -> x.setRecall(2, tenths));
     }
 
     private static void setRecallRefuses() {
         c.sentence(9, "Returns the chance before; BAD if age or tenths is out of range.");
         StoppingPlanner x = new StoppingPlanner();
         for (int age = 1; age <= 2; age++) {
-            int which = age;
             c.due("most", x.setRecall(age, 10), 0);
             c.due("too great", x.setRecall(age, 11), BAD);
             c.due("least", x.setRecall(age, 0), 10);
             c.due("too small", x.setRecall(age, -1), BAD);
             c.due("the same", x.setRecall(age, 0), 0);
-            c.range("setRecall(" + age + ", tenths)", 0, 10, BAD, tenths -> x.setRecall(which, tenths));
         }
-        c.range("setRecall(age, 3)", 1, 2, BAD, age -> x.setRecall(age, 3));
+        c.due("setRecall(0, 5)", x.setRecall(0, 5), BAD);
+        c.due("setRecall(3, 5)", x.setRecall(3, 5), BAD);
+        c.due("setRecall(3, 11)", x.setRecall(3, 11), BAD);
         c.due("parameter(19)", x.parameter(19), 2);
+        c.due("parameter(21)", x.parameter(21), 0);
+    }
+
+    private static void shiftWeightLevels() {
+        c.sentence(10, "- `from`: the level that loses weight, 0 to 4 - `to`: the level that gets it, 0 to 4");
+        StoppingPlanner x = new StoppingPlanner();
+        c.range("shiftWeight(from, 1, 0)", 0, 4, BAD, from -> x.shiftWeight(from, 1, 0));
+        c.range("shiftWeight(1, to, 0)", 0, 4, BAD, to -> x.shiftWeight(1, to, 0));
+        c.due("shiftWeight(0, 4, 1)", x.shiftWeight(0, 4, 1), 3);
+        c.due("parameter(15)", x.parameter(15), 1);
+        c.due("parameter(19)", x.parameter(19), 3);
+        c.due("shiftWeight(4, 0, 3)", x.shiftWeight(4, 0, 3), 4);
+        c.due("parameter(15)", x.parameter(15), 4);
+        c.due("parameter(19)", x.parameter(19), 0);
     }
 
     private static void shiftWeightAmount() {
@@ -286,9 +341,12 @@ public final class ParameterEdgesTest {
     private static void shiftWeightRefuses() {
         c.sentence(10, "Returns the weight of to then; BAD if an argument is out of range.");
         StoppingPlanner x = new StoppingPlanner();
-        c.range("shiftWeight(from, 1, 0)", 0, 4, BAD, from -> x.shiftWeight(from, 1, 0));
-        c.range("shiftWeight(1, to, 0)", 0, 4, BAD, to -> x.shiftWeight(1, to, 0));
-        c.range("shiftWeight(1, 1, tenths)", 0, 2, BAD, tenths -> x.shiftWeight(1, 1, tenths));
+        int[][] refused = {
+            {-1, 0, 0}, {5, 0, 0}, {0, -1, 0}, {0, 5, 0}, {0, 1, -1}, {0, 1, 3}, {-1, 5, 0}, {5, 5, 3}, {5, -1, -1},
+            {0, 0, 3}};
+        for (int[] r : refused) {
+            c.due("shiftWeight(" + r[0] + ", " + r[1] + ", " + r[2] + ")", x.shiftWeight(r[0], r[1], r[2]), BAD);
+        }
         c.due("shiftWeight(0, 4, 2)", x.shiftWeight(0, 4, 2), 4);
         c.due("shiftWeight(1, 4, 2)", x.shiftWeight(1, 4, 2), 6);
         c.due("shiftWeight(2, 4, 2)", x.shiftWeight(2, 4, 2), 8);
@@ -303,8 +361,9 @@ public final class ParameterEdgesTest {
     // ---- promises 11 and 32: parameter and count
 
     private static void parameterNumbers() {
-        c.sentence(11, "- `what`: 0 for n, 1 for k, 2 for c, 3 to 9 for the payoffs of the ranks 1 to 7, 10 to 14 for the values"
-            + " of the levels 0 to 4, 15 to 19 for their weights, 20 and 21 for the recall chances of the ages 1 and 2");
+        c.sentence(11, "- `what`: 0 for n, 1 for k, 2 for c, 3 to 9 for the payoffs of the ranks 1 to 7, 10 to 14 for"
+            + " the values of the levels 0 to 4, 15 to 19 for their weights, 20 and 21 for the recall chances of the"
+            + " ages 1 and 2");
         StoppingPlanner x = new StoppingPlanner();
         x.setCount(0, 6);
         x.setCount(1, 2);
@@ -332,8 +391,8 @@ public final class ParameterEdgesTest {
     }
 
     private static void countNumbers() {
-        c.sentence(32, "- `what`: 0 for the characters of the text buffer, 1 for the remembered states,"
-            + " 2 for the levels with a weight,");
+        c.sentence(32, "- `what`: 0 for the characters of the text buffer, 1 for the remembered states, 2 for the"
+            + " levels with a weight,");
         StoppingPlanner x = new StoppingPlanner();
         for (int size = 0; size <= 60; size++) {
             c.due("count(0)", x.count(0), size);
@@ -352,6 +411,9 @@ public final class ParameterEdgesTest {
             x.shiftWeight(level, 4, 1);
         }
         c.due("count(2) with one weight", x.count(2), 1);
+        x.setRecall(1, 10);
+        x.setRecall(2, 10);
+        c.due("count(2) with one weight and recall chances", x.count(2), 1);
         x.clearText();
         c.due("count(0) of an empty text", x.count(0), 0);
     }

@@ -2,13 +2,13 @@
 public final class RankEdgesTest {
     private static final int BAD = StoppingPlanner.BAD;
     private static final long BAD_FRACTION = StoppingPlanner.BAD_FRACTION;
-    private static final String V = "The value V(i, j) of the situation before candidate i is observed, with j choices left, is 0"
-        + " if j is 0 or i is n + 1; otherwise it is the greater one of 0 and W - c, where W is the mean, over all relative ranks r"
-        + " from 1 to i, of the greater one of V(i + 1, j) and the worth of candidate i with the relative rank r plus"
-        + " V(i + 1, j - 1).";
-    private static final String SKIPPING = "The skipping rule with s (0 to n): the first s candidates are observed and passed; then"
-        + " each candidate whose relative rank is 1 is chosen, until no choice is left or no candidate; each observation costs c,"
-        + " and nobody quits as long as a choice is left and a candidate comes.";
+    private static final String V = "The value V(i, j) of the situation before candidate i is observed, with j choices"
+        + " left, is 0 if j is 0 or i is n + 1; otherwise it is the greater one of 0 and W - c, where W is the mean,"
+        + " over all relative ranks r from 1 to i, of the greater one of V(i + 1, j) and the worth of candidate i with"
+        + " the relative rank r plus V(i + 1, j - 1).";
+    private static final String SKIPPING = "The skipping rule with s (0 to n): the first s candidates are observed and"
+        + " passed; then each candidate whose relative rank is 1 is chosen, until no choice is left or no candidate;"
+        + " each observation costs c, and nobody quits as long as a choice is left and a candidate comes.";
     private static final Checks c = new Checks("RankEdgesTest");
 
     public static void main(String[] args) {
@@ -23,13 +23,18 @@ public final class RankEdgesTest {
         skippingNobodyAndEverybody();
         skippingUntilNoChoiceIsLeft();
         skippingNeverQuits();
+        worthRanges();
         worthRefuses();
+        rankValueRanges();
         rankValueRefuses();
+        choosesRankRanges();
         choosesRankRefuses();
         rankThresholdIsTheGreatest();
+        rankThresholdRanges();
         rankThresholdAnswers();
         rankExpectationKinds();
         rankExpectationRefuses();
+        skippingRange();
         skippingRefuses();
         bestSkipIsTheSmallest();
         c.end();
@@ -67,8 +72,8 @@ public final class RankEdgesTest {
     }
 
     private static void relativeRanks() {
-        c.sentence(0, "When candidate i (1 to n) is observed, its relative rank r is known, 1 to i, which is its rank among the"
-            + " first i candidates.");
+        c.sentence(0, "When candidate i (1 to n) is observed, its relative rank r is known, 1 to i, which is its rank"
+            + " among the first i candidates.");
         for (int n = 1; n <= 7; n++) {
             StoppingPlanner x = planner(n, 1);
             c.range("worth(i, 1)", 1, n, BAD_FRACTION, i -> x.worth(i, 1));
@@ -82,8 +87,8 @@ public final class RankEdgesTest {
     }
 
     private static void ranksThatCount() {
-        c.sentence(0, "the sum, over all ranks R from r to n - i + r, of the payoff of R times C(R - 1, r - 1) * C(n - R, i - r) /"
-            + " C(n, i), where C are binomial coefficients.");
+        c.sentence(0, "the sum, over all ranks R from r to n - i + r, of the payoff of R times C(R - 1, r - 1) * C(n -"
+            + " R, i - r) / C(n, i), where C are binomial coefficients.");
         for (int n = 1; n <= 7; n++) {
             for (int rank = 1; rank <= n; rank++) {
                 StoppingPlanner x = Checks.planner("n" + n + ";p0;");
@@ -132,7 +137,8 @@ public final class RankEdgesTest {
             c.fraction("rankValue(n + 1, " + j + ")", x, x.rankValue(n + 1, j), 0, 1);
         }
         for (int j = 1; j <= k; j++) {
-            c.due("rankValue(n, " + j + ") is the mean payoff", x.rankValue(n, j) * n, sumOfPayoffs(x) * x.denominator());
+            c.due("rankValue(n, " + j + ") is the mean payoff", x.rankValue(n, j) * n,
+                sumOfPayoffs(x) * x.denominator());
         }
     }
 
@@ -164,8 +170,8 @@ public final class RankEdgesTest {
     }
 
     private static void meanOverAllRelativeRanks() {
-        c.sentence(0, "where W is the mean, over all relative ranks r from 1 to i, of the greater one of V(i + 1, j) and the worth of"
-            + " candidate i with the relative rank r plus V(i + 1, j - 1).");
+        c.sentence(0, "where W is the mean, over all relative ranks r from 1 to i, of the greater one of V(i + 1, j)"
+            + " and the worth of candidate i with the relative rank r plus V(i + 1, j - 1).");
         for (int n = 1; n <= 7; n++) {
             for (int rank = 1; rank <= n; rank++) {
                 StoppingPlanner x = Checks.planner("n" + n + ";k3;p0;");
@@ -219,6 +225,12 @@ public final class RankEdgesTest {
         x.setPayoff(1, 33);
         c.due("choosesRank(1, 1, 1) of equal ones", x.choosesRank(1, 1, 1), 1);
         c.due("choosesRank(2, 1, 2) of equal ones", x.choosesRank(2, 1, 2), 1);
+        // With two choices left and two to come: nothing and one choice for 21, or two choices for 24.
+        x = Checks.planner("n5;k2;p60;");
+        c.fraction("rankValue(4, 1)", x, x.rankValue(4, 1), 21, 1);
+        c.fraction("rankValue(4, 2)", x, x.rankValue(4, 2), 24, 1);
+        c.due("choosesRank(3, 2, 2)", x.choosesRank(3, 2, 2), 0);
+        c.due("choosesRank(3, 2, 1)", x.choosesRank(3, 2, 1), 1);
         // Behind the last candidate, everything is worth 0, and so is a candidate without a payoff.
         x = Checks.planner("n7;k3;p0;");
         for (int r = 1; r <= 7; r++) {
@@ -288,18 +300,52 @@ public final class RankEdgesTest {
 
     // ---- promises 12 to 15
 
+    private static void worthRanges() {
+        c.sentence(12, "- `i`: the candidate, 1 to n - `r`: its relative rank, 1 to i");
+        StoppingPlanner x = new StoppingPlanner();
+        for (int n : new int[] {5, 7, 1, 6, 2, 3, 4}) {
+            x.setCount(0, n);
+            c.range("worth(i, 1), n = " + n, 1, n, BAD_FRACTION, i -> x.worth(i, 1));
+            for (int i = 1; i <= n; i++) {
+                int candidate = i;
+                c.range("worth(" + i + ", r), n = " + n, 1, i, BAD_FRACTION, r -> x.worth(candidate, r));
+            }
+        }
+    }
+
     private static void worthRefuses() {
         c.sentence(12, "Returns the numerator; BAD_FRACTION if an argument is out of range.");
         for (int n = 1; n <= 7; n++) {
-            int last = n;
             StoppingPlanner x = planner(n, 1);
-            c.range("worth(i, 1), n = " + n, 1, n, BAD_FRACTION, i -> x.worth(i, 1));
-            c.range("worth(n, r), n = " + n, 1, n, BAD_FRACTION, r -> x.worth(last, r));
-            c.due("worth(0, 0)", x.worth(0, 0), BAD_FRACTION);
-            c.due("worth(n + 1, n + 1)", x.worth(n + 1, n + 1), BAD_FRACTION);
-            c.due("worth(n + 1, n)", x.worth(n + 1, n), BAD_FRACTION);
+            int[][] refused = {
+                {0, 0}, {0, 1}, {1, 0}, {1, 2}, {n, n + 1}, {n + 1, 1}, {n + 1, n}, {n + 1, n + 1}, {-1, -1}, {8, 8},
+                {1, -1}};
+            for (int[] r : refused) {
+                c.due("worth(" + r[0] + ", " + r[1] + "), n = " + n, x.worth(r[0], r[1]), BAD_FRACTION);
+            }
             for (int i = 1; i < n; i++) {
                 c.due("worth(i, i + 1): a relative rank that comes later", x.worth(i, i + 1), BAD_FRACTION);
+            }
+            c.due("denominator() where no fraction was returned", x.denominator(), 1);
+            c.due("worth(n, n)", x.worth(n, n), x.parameter(2 + n));
+        }
+    }
+
+    private static void rankValueRanges() {
+        c.sentence(13, "- `i`: 1 to n + 1 - `j`: 0 to k");
+        StoppingPlanner x = new StoppingPlanner();
+        for (int n : new int[] {5, 7, 1, 6, 2, 3, 4}) {
+            for (int k : new int[] {1, 3, 2}) {
+                x.setCount(0, n);
+                x.setCount(1, k);
+                for (int j = 0; j <= k; j++) {
+                    int left = j;
+                    c.range("rankValue(i, " + j + "), n = " + n, 1, n + 1, BAD_FRACTION, i -> x.rankValue(i, left));
+                }
+                for (int i = 1; i <= n + 1; i++) {
+                    int candidate = i;
+                    c.range("rankValue(" + i + ", j), k = " + k, 0, k, BAD_FRACTION, j -> x.rankValue(candidate, j));
+                }
             }
         }
     }
@@ -308,12 +354,36 @@ public final class RankEdgesTest {
         c.sentence(13, "Returns the numerator; BAD_FRACTION if an argument is out of range.");
         for (int n = 1; n <= 7; n++) {
             for (int k = 1; k <= 3; k++) {
-                int last = n;
                 StoppingPlanner x = planner(n, k);
-                c.range("rankValue(i, 1), n = " + n, 1, n + 1, BAD_FRACTION, i -> x.rankValue(i, 1));
-                c.range("rankValue(i, 0), n = " + n, 1, n + 1, BAD_FRACTION, i -> x.rankValue(i, 0));
-                c.range("rankValue(1, j), k = " + k, 0, k, BAD_FRACTION, j -> x.rankValue(1, j));
-                c.range("rankValue(n + 1, j), k = " + k, 0, k, BAD_FRACTION, j -> x.rankValue(last + 1, j));
+                int[][] refused = {
+                    {0, 0}, {0, k}, {n + 2, 0}, {n + 2, k}, {1, -1}, {1, k + 1}, {n + 1, -1}, {n + 1, k + 1}, {0, -1},
+                    {n + 2, k + 1}};
+                for (int[] r : refused) {
+                    String call = "rankValue(" + r[0] + ", " + r[1] + "), n = " + n + ", k = " + k;
+                    c.due(call, x.rankValue(r[0], r[1]), BAD_FRACTION);
+                }
+                c.due("denominator() where no fraction was returned", x.denominator(), 1);
+                c.due("rankValue(1, k) is answered", x.rankValue(1, k) > 0, true);
+            }
+        }
+    }
+
+    private static void choosesRankRanges() {
+        c.sentence(14, "- `i`: the candidate, 1 to n - `j`: the choices that are left, 1 to k - `r`: its relative"
+            + " rank, 1 to i");
+        StoppingPlanner x = new StoppingPlanner();
+        for (int n : new int[] {5, 7, 1, 6, 2, 3, 4}) {
+            for (int k : new int[] {1, 3, 2}) {
+                x.setCount(0, n);
+                x.setCount(1, k);
+                c.range("choosesRank(i, k, 1), n = " + n, 1, n, BAD, i -> x.choosesRank(i, k, 1));
+                for (int i = 1; i <= n; i++) {
+                    int candidate = i;
+                    c.range("choosesRank(" + i + ", j, 1), k = " + k, 1, k, BAD, j -> x.choosesRank(candidate, j, 1));
+                    c.range("choosesRank(" + i + ", j, i), k = " + k, 1, k, BAD,
+                        j -> x.choosesRank(candidate, j, candidate));
+                    c.range("choosesRank(" + i + ", k, r)", 1, i, BAD, r -> x.choosesRank(candidate, k, r));
+                }
             }
         }
     }
@@ -322,21 +392,25 @@ public final class RankEdgesTest {
         c.sentence(14, "Returns 1 if it chooses the candidate, else 0; BAD if an argument is out of range.");
         for (int n = 1; n <= 7; n++) {
             for (int k = 1; k <= 3; k++) {
-                int last = n;
-                int all = k;
                 StoppingPlanner x = planner(n, k);
-                c.range("choosesRank(i, k, 1), n = " + n, 1, n, BAD, i -> x.choosesRank(i, all, 1));
-                c.range("choosesRank(1, j, 1), k = " + k, 1, k, BAD, j -> x.choosesRank(1, j, 1));
-                c.range("choosesRank(n, 1, r), n = " + n, 1, n, BAD, r -> x.choosesRank(last, 1, r));
-                c.range("choosesRank(1, 1, r)", 1, 1, BAD, r -> x.choosesRank(1, 1, r));
-                c.due("choosesRank(n, k, n)", x.choosesRank(n, k, n), 1);
+                int[][] refused = {
+                    {0, 1, 1}, {0, 1, 0}, {n + 1, 1, 1}, {n + 1, 1, n + 1}, {1, 0, 1}, {1, k + 1, 1}, {1, -1, 1},
+                    {1, 1, 0}, {1, 1, 2}, {n, k, n + 1}, {n, k, 0}, {n, 0, n}, {n, k + 1, n}, {0, 0, 0},
+                    {n + 1, k + 1, n + 2}};
+                for (int[] r : refused) {
+                    String call = "choosesRank(" + r[0] + ", " + r[1] + ", " + r[2] + "), n = " + n + ", k = " + k;
+                    c.due(call, x.choosesRank(r[0], r[1], r[2]), BAD);
+                }
+                c.due("choosesRank(n, k, n): nobody comes any more", x.choosesRank(n, k, n), 1);
+                c.due("choosesRank(n, 1, 1): nobody comes any more", x.choosesRank(n, 1, 1), 1);
             }
         }
-        c.due("choosesRank(1, 1, 1)", planner(5, 1).choosesRank(1, 1, 1), 0);
+        c.due("choosesRank(1, 1, 1): better ones come", planner(5, 1).choosesRank(1, 1, 1), 0);
     }
 
     private static void rankThresholdIsTheGreatest() {
-        c.sentence(15, "Returns the rank threshold: the greatest r such that all relative ranks from 1 to r are chosen.");
+        c.sentence(15, "Returns the rank threshold: the greatest r such that all relative ranks from 1 to r are"
+            + " chosen.");
         StoppingPlanner x = Checks.planner("n4;p99 0 0 99;");
         // The relative rank 3 of 3 is chosen, too, but 2 isn't.
         c.due("choosesRank(3, 1, 1)", x.choosesRank(3, 1, 1), 1);
@@ -358,6 +432,25 @@ public final class RankEdgesTest {
         }
     }
 
+    private static void rankThresholdRanges() {
+        c.sentence(15, "- `i`: the candidate, 1 to n - `j`: the choices that are left, 1 to k");
+        StoppingPlanner x = new StoppingPlanner();
+        for (int n : new int[] {5, 7, 1, 6, 2, 3, 4}) {
+            for (int k : new int[] {1, 3, 2}) {
+                x.setCount(0, n);
+                x.setCount(1, k);
+                for (int j = 1; j <= k; j++) {
+                    int left = j;
+                    c.range("rankThreshold(i, " + j + "), n = " + n, 1, n, BAD, i -> x.rankThreshold(i, left));
+                }
+                for (int i = 1; i <= n; i++) {
+                    int candidate = i;
+                    c.range("rankThreshold(" + i + ", j), k = " + k, 1, k, BAD, j -> x.rankThreshold(candidate, j));
+                }
+            }
+        }
+    }
+
     private static void rankThresholdAnswers() {
         c.sentence(15, "Returns r, 0 if the relative rank 1 is not chosen; BAD if an argument is out of range.");
         StoppingPlanner secretary = Checks.planner("n7;p99;");
@@ -367,11 +460,14 @@ public final class RankEdgesTest {
         }
         for (int n = 1; n <= 7; n++) {
             for (int k = 1; k <= 3; k++) {
-                int last = n;
-                int all = k;
                 StoppingPlanner x = planner(n, k);
-                c.range("rankThreshold(i, k), n = " + n, 1, n, BAD, i -> x.rankThreshold(i, all));
-                c.range("rankThreshold(n, j), k = " + k, 1, k, BAD, j -> x.rankThreshold(last, j));
+                int[][] refused = {
+                    {0, 1}, {n + 1, 1}, {1, 0}, {1, k + 1}, {n, 0}, {n, k + 1}, {1, -1}, {-1, 1}, {0, 0},
+                    {n + 1, k + 1}};
+                for (int[] r : refused) {
+                    String call = "rankThreshold(" + r[0] + ", " + r[1] + "), n = " + n + ", k = " + k;
+                    c.due(call, x.rankThreshold(r[0], r[1]), BAD);
+                }
             }
         }
     }
@@ -379,8 +475,8 @@ public final class RankEdgesTest {
     // ---- promises 16 to 18
 
     private static void rankExpectationKinds() {
-        c.sentence(16, "- `what`: 0 for the number of observations, 1 for the number of choices, 2 for the probability that all k"
-            + " choices are used");
+        c.sentence(16, "- `what`: 0 for the number of observations, 1 for the number of choices, 2 for the probability"
+            + " that all k choices are used");
         for (int n = 1; n <= 7; n++) {
             for (int k = 1; k <= 3; k++) {
                 // Everybody who comes is chosen.
@@ -407,11 +503,24 @@ public final class RankEdgesTest {
         c.range("rankExpectation(what)", 0, 2, BAD_FRACTION, x::rankExpectation);
     }
 
+    private static void skippingRange() {
+        c.sentence(17, "- `s`: 0 to n");
+        StoppingPlanner x = new StoppingPlanner();
+        for (int n : new int[] {5, 7, 1, 6, 2, 3, 4}) {
+            x.setCount(0, n);
+            c.range("skipping(s), n = " + n, 0, n, BAD_FRACTION, x::skipping);
+        }
+    }
+
     private static void skippingRefuses() {
         c.sentence(17, "Returns the numerator; BAD_FRACTION if s is out of range.");
         for (int n = 1; n <= 7; n++) {
             StoppingPlanner x = planner(n, 2);
-            c.range("skipping(s), n = " + n, 0, n, BAD_FRACTION, x::skipping);
+            c.due("skipping(-1)", x.skipping(-1), BAD_FRACTION);
+            c.due("skipping(n + 1)", x.skipping(n + 1), BAD_FRACTION);
+            c.due("skipping(8)", x.skipping(8), BAD_FRACTION);
+            c.due("denominator() where no fraction was returned", x.denominator(), 1);
+            c.due("skipping(n)", x.skipping(n), 0);
         }
     }
 
@@ -428,7 +537,8 @@ public final class RankEdgesTest {
         c.due("bestSkip() of two that are equal", x.bestSkip(), 0);
         c.due("bestSkip()", Checks.planner("n7;p99;").bestSkip(), 2);
         String[] texts = {
-            "n4;p1;", "n4;p99 97 95;", "n7;k2;p99;", "n7;k3;p99 50;c2;", "n7;k3;p99;c1;", "n6;p0 9;", "n6;p9 0 0 0 0 9;"};
+            "n4;p1;", "n4;p99 97 95;", "n7;k2;p99;", "n7;k3;p99 50;c2;", "n7;k3;p99;c1;", "n6;p0 9;",
+            "n6;p9 0 0 0 0 9;"};
         for (String text : texts) {
             isTheSmallestBest(text, Checks.planner(text));
         }
@@ -441,8 +551,8 @@ public final class RankEdgesTest {
         for (int s = 0; s <= x.parameter(0); s++) {
             long value = x.skipping(s);
             long difference = most * x.denominator() - value * below;
-            c.due("skipping(" + best + ") is better than skipping(" + s + ") of " + text, s < best ? difference > 0 : difference >= 0,
-                true);
+            c.due("skipping(" + best + ") is better than skipping(" + s + ") of " + text,
+                s < best ? difference > 0 : difference >= 0, true);
         }
     }
 }

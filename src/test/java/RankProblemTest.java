@@ -124,7 +124,7 @@ public final class RankProblemTest {
         c.due("rankThreshold(1, 1)", x.rankThreshold(1, 1), 0);
         c.due("rankThreshold(2, 1)", x.rankThreshold(2, 1), 1);
         c.due("rankThreshold(3, 1)", x.rankThreshold(3, 1), 3);
-        // Rank 2 pays best: relative rank 1 of 2 is passed, relative rank 2 is chosen.
+        // Only rank 2 pays: both relative ranks of 2 are worth 30, as much as the last candidate is.
         x = Checks.planner("n3;p0 90 0;");
         c.due("choosesRank(2, 1, 1)", x.choosesRank(2, 1, 1), 1);
         c.due("rankThreshold(2, 1)", x.rankThreshold(2, 1), 2);

@@ -5,7 +5,7 @@ import java.util.List;
 import java.util.Map;
 import java.util.function.ToLongFunction;
 
-/** The boundaries that the document names for simulations, the digest and the number of calls: a test for each sentence. */
+/** The boundaries that the document names for simulations, the digest and all calls: a test for each sentence. */
 public final class SimulationEdgesTest {
     private static final int BAD = StoppingPlanner.BAD;
     private static final Checks c = new Checks("SimulationEdgesTest");
@@ -34,15 +34,16 @@ public final class SimulationEdgesTest {
     /** Seeds at the ends of int, small ones, and others. */
     private static int seed(int number) {
         int[] seeds = {
-            0, 1, -1, 2, -2, Integer.MIN_VALUE, Integer.MAX_VALUE, Integer.MIN_VALUE + 1, Integer.MAX_VALUE - 1, 65535, 65536, -65536};
+            0, 1, -1, 2, -2, Integer.MIN_VALUE, Integer.MAX_VALUE, Integer.MIN_VALUE + 1, Integer.MAX_VALUE - 1, 65535,
+            65536, -65536};
         return number < seeds.length ? seeds[number] : number * 987654321;
     }
 
     // ---- promise 29: simulateRanks
 
     private static void numbersWrapAround() {
-        c.sentence(29, "Numbers are drawn as follows: z is the seed at first; to draw a number, z becomes z * 1103515245 + 12345 (int"
-            + " arithmetic that overflows), and the number is (z >>> 16) & 32767.");
+        c.sentence(29, "Numbers are drawn as follows: z is the seed at first; to draw a number, z becomes z *"
+            + " 1103515245 + 12345 (int arithmetic that overflows), and the number is (z >>> 16) & 32767.");
         // The payoffs depend on the last one of seven numbers, too.
         StoppingPlanner x = Checks.planner("n7;k2;p77 66 55 44 33 22 11;");
         StoppingPlanner one = Checks.planner("n1;w2 2 2 2 2;v1 2 3 4 5;");
@@ -78,17 +79,19 @@ public final class SimulationEdgesTest {
     }
 
     private static void relativeRanksAreDrawnFirst() {
-        c.sentence(29, "For i from 1 to n, candidate i gets the relative rank 1 + (a number that is drawn) modulo i (the numbers are"
-            + " drawn for all candidates, in this order, before anything else);");
+        c.sentence(29, "For i from 1 to n, candidate i gets the relative rank 1 + (a number that is drawn) modulo i"
+            + " (the numbers are drawn for all candidates, in this order, before anything else);");
         String[] texts = {
-            "n1;p5;", "n2;p9;", "n3;k3;p9 7 3;", "n4;p99;", "n5;k2;p99 50;c3;", "n6;k3;p1 0 0 0 0 99;", "n7;p99;", "n7;k3;p70 60 5;c9;"};
+            "n1;p5;", "n2;p9;", "n3;k3;p9 7 3;", "n4;p99;", "n5;k2;p99 50;c3;", "n6;k3;p1 0 0 0 0 99;", "n7;p99;",
+            "n7;k3;p70 60 5;c9;"};
         for (String text : texts) {
             StoppingPlanner x = Checks.planner(text);
             for (int number = 0; number < 100; number++) {
                 int seed = seed(number);
                 int[] due = ranksOf(x, seed);
                 for (int what = 0; what <= 2; what++) {
-                    c.due("simulateRanks(" + seed + ", " + what + ") of " + text, x.simulateRanks(seed, what), due[what]);
+                    c.due("simulateRanks(" + seed + ", " + what + ") of " + text, x.simulateRanks(seed, what),
+                        due[what]);
                 }
             }
         }
@@ -160,9 +163,10 @@ public final class SimulationEdgesTest {
     // ---- promise 30: simulateValues
 
     private static void levelsByWeight() {
-        c.sentence(30, "when a candidate is observed, a number modulo 10 is drawn, and the candidate has the smallest level such that"
-            + " this is less than the sum of the weights of the levels up to it;");
-        String[] weights = {"2 2 2 2 2", "10 0 0 0 0", "0 0 0 0 10", "0 0 10 0 0", "1 0 8 0 1", "0 5 0 5 0", "9 1 0 0 0", "0 0 0 1 9"};
+        c.sentence(30, "when a candidate is observed, a number modulo 10 is drawn, and the candidate has the smallest"
+            + " level such that this is less than the sum of the weights of the levels up to it;");
+        String[] weights = {"2 2 2 2 2", "10 0 0 0 0", "0 0 0 0 10", "0 0 10 0 0", "1 0 8 0 1", "0 5 0 5 0",
+            "9 1 0 0 0", "0 0 0 1 9"};
         for (String some : weights) {
             StoppingPlanner x = Checks.planner("n1;v1 2 3 4 5;w" + some + ";");
             int numbersSeen = 0;
@@ -183,8 +187,8 @@ public final class SimulationEdgesTest {
     }
 
     private static void recallByChance() {
-        c.sentence(30, "when a recall is tried, a number modulo 10 is drawn, and the candidate is chosen if this is less than the"
-            + " recall chance.");
+        c.sentence(30, "when a recall is tried, a number modulo 10 is drawn, and the candidate is chosen if this is"
+            + " less than the recall chance.");
         for (int tenths = 1; tenths <= 10; tenths++) {
             // 0 comes with 3 tenths, 50 with 3, 99 with 4: 50 is passed, and recalled if a 0 follows.
             StoppingPlanner x = Checks.planner("n2;v0 0 0 50 99;w1 1 1 3 4;r0 " + tenths + ";");
@@ -256,7 +260,8 @@ public final class SimulationEdgesTest {
     private static void numbersWhenTheyAreNeeded() {
         c.sentence(30, "Numbers are drawn as for simulateRanks, whenever they are needed:");
         String[] texts = {
-            "n1;", "n2;r0 9;", "n4;k2;r0 10;", "n7;k3;v10 20 30 40 60;w1 2 3 2 2;r6 9;c2;", "n7;k3;v60 0 20 5 60;w1 6 3 0 0;r10 4;c1;",
+            "n1;", "n2;r0 9;", "n4;k2;r0 10;", "n7;k3;v10 20 30 40 60;w1 2 3 2 2;r6 9;c2;",
+            "n7;k3;v60 0 20 5 60;w1 6 3 0 0;r10 4;c1;",
             "n5;k3;c20;r10 10;", "n6;k1;r2 7;w4 0 3 0 3;c4;", "n7;k2;v0 0 0 0 0;r5 5;"};
         for (String text : texts) {
             StoppingPlanner x = Checks.planner(text);
@@ -264,7 +269,8 @@ public final class SimulationEdgesTest {
                 int seed = seed(number);
                 int[] due = valuesOf(x, seed);
                 for (int what = 0; what <= 4; what++) {
-                    c.due("simulateValues(" + seed + ", " + what + ") of " + text, x.simulateValues(seed, what), due[what]);
+                    c.due("simulateValues(" + seed + ", " + what + ") of " + text, x.simulateValues(seed, what),
+                        due[what]);
                 }
             }
         }
@@ -282,7 +288,8 @@ public final class SimulationEdgesTest {
             int first = numbers.next() % 10;
             int second = numbers.next() % 10;
             // 0 with 4 tenths, 50 with 5 tenths, 99 with 1 tenth
-            int best = Math.max(first < 4 ? 0 : first < 9 ? 50 : 99, first == 9 || second < 4 ? 0 : second < 9 ? 50 : 99);
+            int best = Math.max(first < 4 ? 0 : first < 9 ? 50 : 99,
+                first == 9 || second < 4 ? 0 : second < 9 ? 50 : 99);
             c.due("simulateValues(" + seed + ", 0): the better one", x.simulateValues(seed, 0), best);
             c.due("simulateValues(" + seed + ", 1)", x.simulateValues(seed, 1), first == 9 ? 1 : 2);
             recalled += x.simulateValues(seed, 4);
@@ -298,8 +305,9 @@ public final class SimulationEdgesTest {
     }
 
     private static void setAndRecalls() {
-        c.sentence(30, "2 for the set of the candidates that were chosen when they were observed (bit i - 1 for candidate i), 3 for the"
-            + " number of recalls that were tried, 4 for the number of recalls by which a candidate was chosen");
+        c.sentence(30, "2 for the set of the candidates that were chosen when they were observed (bit i - 1 for"
+            + " candidate i), 3 for the number of recalls that were tried, 4 for the number of recalls by which a"
+            + " candidate was chosen");
         for (int n = 1; n <= 7; n++) {
             for (int k = 1; k <= 3; k++) {
                 StoppingPlanner x = Checks.planner("n" + n + ";k" + k + ";v9 9 9 9 9;");
@@ -390,17 +398,23 @@ public final class SimulationEdgesTest {
     }
 
     private static void digestWrapsAround() {
-        c.sentence(33, "h is 18474 at first; then h becomes 31 * h + v (long arithmetic that overflows) for each of these values v, in"
-            + " this order:");
-        for (int n = 1; n <= 7; n++) {
-            for (int k = 1; k <= 3; k++) {
-                StoppingPlanner x = Checks.planner("n" + n + ";k" + k + ";p99 70 30 5;c2;v0 12 29 50 99;w1 2 3 3 1;r4 9;");
-                BigInteger h = withoutOverflow(digested(x));
-                c.due("h is longer than a long", h.bitLength() > 64, true);
-                c.due("digest() with n " + n + ", k " + k, x.digest(), h.longValue());
+        c.sentence(33, "h is 18474 at first; then h becomes 31 * h + v (long arithmetic that overflows) for each of"
+            + " these values v, in this order:");
+        String[] texts = {
+            "p99 70 30 5;c2;v0 12 29 50 99;w1 2 3 3 1;r4 9;", "p0 0 99;v99 50 29 12 0;w1 3 3 2 1;r10 10;",
+            "p99;v30 20 10 20 30;w0 5 0 5 0;r9 7;c4;"};
+        for (String text : texts) {
+            for (int n = 1; n <= 7; n++) {
+                for (int k = 1; k <= 3; k++) {
+                    StoppingPlanner x = Checks.planner("n" + n + ";k" + k + ";" + text);
+                    BigInteger h = withoutOverflow(digested(x));
+                    c.due("h is longer than a long", h.bitLength() > 64, true);
+                    c.due("digest() with n " + n + ", k " + k + ", " + text, x.digest(), h.longValue());
+                }
             }
         }
-        c.due("digest() of a new object", new StoppingPlanner().digest(), withoutOverflow(digested(new StoppingPlanner())).longValue());
+        c.due("digest() of a new object", new StoppingPlanner().digest(),
+            withoutOverflow(digested(new StoppingPlanner())).longValue());
     }
 
     private static void digestOfParameters() {
@@ -469,7 +483,8 @@ public final class SimulationEdgesTest {
     // ---- the number of calls
 
     private static void fiveHundredAndTwelveCalls() {
-        c.sentence(0, "An object is used for at most 512 calls after it has been made; what later calls answer is free.");
+        c.sentence(0, "An object is used for at most 512 calls after it has been made; what later calls answer is"
+            + " free.");
         Map<String, ToLongFunction<StoppingPlanner>> calls = new LinkedHashMap<>();
         calls.put("digest()", x -> x.digest());
         calls.put("bestFixed()", x -> x.bestFixed());

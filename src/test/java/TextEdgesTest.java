@@ -2,9 +2,9 @@
 public final class TextEdgesTest {
     private static final int BAD = StoppingPlanner.BAD;
     private static final int FULL = StoppingPlanner.FULL;
-    private static final String ITEMS = "n, k or c and a number (the parameter); p and one or more numbers (payoffs of the"
-        + " ranks 1, 2, and so on; those of the ranks without a number become 0); v and five numbers (the values of the levels);"
-        + " w and five numbers (the weights); r and two numbers (the recall chances).";
+    private static final String ITEMS = "n, k or c and a number (the parameter); p and one or more numbers (payoffs of"
+        + " the ranks 1, 2, and so on; those of the ranks without a number become 0); v and five numbers (the values"
+        + " of the levels); w and five numbers (the weights); r and two numbers (the recall chances).";
     private static final Checks c = new Checks("TextEdgesTest");
 
     public static void main(String[] args) {
@@ -26,11 +26,14 @@ public final class TextEdgesTest {
         numberIsJudgedBehindIt();
         tooFewNumbers();
         wrongSumOfWeights();
+        typeCodes();
         typeRefuses();
+        clearTextEmpties();
         clearTextAnswers();
         loadKeepsTheText();
         loadAnswers();
         loadWithAFault();
+        loadBeginsAnew();
         faultKindOfTheLatestLoad();
         faultKindAnswers();
         c.end();
@@ -130,18 +133,19 @@ public final class TextEdgesTest {
     }
 
     private static void payoffsWithoutANumber() {
-        c.sentence(0, "p and one or more numbers (payoffs of the ranks 1, 2, and so on; those of the ranks without a number"
-            + " become 0)");
+        c.sentence(0, "p and one or more numbers (payoffs of the ranks 1, 2, and so on; those of the ranks without a"
+            + " number become 0)");
         StringBuilder text = new StringBuilder("p");
         for (int numbers = 1; numbers <= 7; numbers++) {
             text.append(numbers == 1 ? "" : " ").append(20 + numbers);
-            StoppingPlanner x = Checks.planner("p1 2 3 4 5 6 7;");
+            StoppingPlanner x = Checks.planner("p1 2 3 4 5 6 7;v8 9 10 11 12;c13;");
             c.due("load()", Checks.answerToText(x, text + ";"), 1);
             for (int rank = 1; rank <= 7; rank++) {
-                c.due("parameter(" + (2 + rank) + ") after " + text, x.parameter(2 + rank), rank > numbers ? 0 : 20 + rank);
+                c.due("parameter(" + (2 + rank) + ") after " + text, x.parameter(2 + rank),
+                    rank > numbers ? 0 : 20 + rank);
             }
-            c.due("parameter(10) after " + text, x.parameter(10), 0);
-            c.due("parameter(11) after " + text, x.parameter(11), 10);
+            c.due("parameter(2) after " + text, x.parameter(2), 13);
+            c.due("parameter(10) after " + text, x.parameter(10), 8);
         }
         StoppingPlanner x = Checks.planner("p1 2 3 4 5 6 7;");
         c.due("load() of another item", Checks.answerToText(x, "n7;"), 1);
@@ -198,7 +202,8 @@ public final class TextEdgesTest {
     }
 
     private static void anyNumberOfItems() {
-        c.sentence(0, "There can be any number of items, also several with the same letter, of which the last one counts.");
+        c.sentence(0, "There can be any number of items, also several with the same letter, of which the last one"
+            + " counts.");
         StringBuilder text = new StringBuilder();
         for (int items = 0; items <= 20; items++) {
             good(text.toString(), items);
@@ -296,8 +301,8 @@ public final class TextEdgesTest {
     }
 
     private static void numberOutOfRange() {
-        c.sentence(0, "2 a number that is out of range, or a number too many in its item (with p, an eighth one); its position is"
-            + " that of its first digit");
+        c.sentence(0, "2 a number that is out of range, or a number too many in its item (with p, an eighth one); its"
+            + " position is that of its first digit");
         String[] letters = {"n", "k", "c", "p"};
         int[] least = {1, 1, 0, 0};
         int[] most = {7, 3, 20, 99};
@@ -361,8 +366,8 @@ public final class TextEdgesTest {
     }
 
     private static void tooFewNumbers() {
-        c.sentence(0, "3 a semicolon too early (too few numbers, or five weights whose sum is not 10); its position is that of the"
-            + " semicolon.");
+        c.sentence(0, "3 a semicolon too early (too few numbers, or five weights whose sum is not 10); its position is"
+            + " that of the semicolon.");
         String[] texts = {
             "n;", "k;", "c;", "p;", "v;", "v1;", "v1 2;", "v1 2 3;", "v1 2 3 4;", "w;", "w10;", "w5 5;", "w2 2 6;",
             "w4 2 2 2;", "r;", "r1;", "  n  ;", "  r  1  ;"};
@@ -389,14 +394,21 @@ public final class TextEdgesTest {
 
     // ---- promises 2 and 3: type and clearText
 
-    private static void typeRefuses() {
-        c.sentence(2, "Returns how many characters the text buffer has then; BAD if code is out of range; FULL if it has 60.");
+    private static void typeCodes() {
+        c.sentence(2, "- `code`: its code, 32 to 126");
         StoppingPlanner x = new StoppingPlanner();
         c.range("type(code)", 32, 126, BAD, code -> {
             x.clearText();
             return x.type(code);
         });
-        x.clearText();
+    }
+
+    private static void typeRefuses() {
+        c.sentence(2, "Returns how many characters the text buffer has then; BAD if code is out of range; FULL if it"
+            + " has 60.");
+        StoppingPlanner x = new StoppingPlanner();
+        c.due("type(31) into an empty text", x.type(31), BAD);
+        c.due("type(127) into an empty text", x.type(127), BAD);
         for (int size = 1; size <= 59; size++) {
             c.due("type(33)", x.type(33), size);
         }
@@ -407,6 +419,24 @@ public final class TextEdgesTest {
         c.due("count(0)", x.count(0), 60);
         x.clearText();
         c.due("type(35) into an empty text", x.type(35), 1);
+    }
+
+    private static void clearTextEmpties() {
+        c.sentence(3, "Empties the text buffer.");
+        StoppingPlanner x = new StoppingPlanner();
+        for (int size = 1; size <= 60; size++) {
+            x.type('x');
+        }
+        c.due("type('x')", x.type('x'), FULL);
+        x.clearText();
+        c.due("count(0)", x.count(0), 0);
+        c.due("load() of an empty text", x.load(), 0);
+        c.due("type(' ')", x.type(' '), 1);
+        c.due("load() of a space", x.load(), 0);
+        for (int size = 2; size <= 60; size++) {
+            c.due("type(' ')", x.type(' '), size);
+        }
+        c.due("load() of 60 spaces", x.load(), 0);
     }
 
     private static void clearTextAnswers() {
@@ -450,7 +480,8 @@ public final class TextEdgesTest {
     }
 
     private static void loadAnswers() {
-        c.sentence(4, "Returns the number of items; -10 minus the position of the fault if there is one (then nothing is changed).");
+        c.sentence(4, "Returns the number of items; -10 minus the position of the fault if there is one (then nothing"
+            + " is changed).");
         good("", 0);
         good("   ", 0);
         good("n1;", 1);
@@ -466,7 +497,8 @@ public final class TextEdgesTest {
     private static void loadWithAFault() {
         c.sentence(4, "(then nothing is changed).");
         String before = "n3;k2;c5;p9 8 7;v5 4 3 2 1;w0 0 10 0 0;r9 8;";
-        String[] faults = {"x", "n8;", "n;", "n1;x", "n1;k1;c1;k4;", "p1;p;", "v9 9 9 9 9;v", "w10 0 0 0 0;w1 1 1 1 1;", "r0 0;;"};
+        String[] faults = {"x", "n8;", "n;", "n1;x", "n1;k1;c1;k4;", "p1;p;", "v9 9 9 9 9;v", "w10 0 0 0 0;w1 1 1 1 1;",
+            "r0 0;;"};
         for (String text : faults) {
             StoppingPlanner x = Checks.planner(before);
             StoppingPlanner untouched = Checks.planner(before);
@@ -481,6 +513,27 @@ public final class TextEdgesTest {
             c.due("undo()", x.undo(), 0);
             untouched.undo();
             c.due("digest()", x.digest(), untouched.digest());
+        }
+    }
+
+    private static void loadBeginsAnew() {
+        c.sentence(4, "Reads the text buffer, which stays, as items, and sets the parameters that it tells.");
+        String[] faults = {"x", "n", "n1", "n12", "n123", "p1 2", "p1 234", "n8", "w2 2 2 2 ;", "w2 2 2 2 1;", "v1 2 3",
+            "n1;k1;r9 "};
+        for (String fault : faults) {
+            StoppingPlanner x = new StoppingPlanner();
+            c.due("load() of " + fault, Checks.answerToText(x, fault) <= -10, true);
+            c.due("load() of an empty text after " + fault, Checks.answerToText(x, ""), 0);
+            c.due("load() of " + fault, Checks.answerToText(x, fault) <= -10, true);
+            c.due("load() of n3; after " + fault, Checks.answerToText(x, "n3;"), 1);
+            c.due("load() of " + fault, Checks.answerToText(x, fault) <= -10, true);
+            c.due("load() of 5 after " + fault, Checks.answerToText(x, "5"), -10);
+            c.due("load() of ; after " + fault, Checks.answerToText(x, ";"), -10);
+            c.due("load() of two items after " + fault, Checks.answerToText(x, "k2;r9 8;"), 2);
+            int[] want = {3, 2, 0, 99, 0, 0, 0, 0, 0, 0, 0, 10, 20, 30, 40, 2, 2, 2, 2, 2, 9, 8};
+            for (int what = 0; what <= 21; what++) {
+                c.due("parameter(" + what + ") after " + fault, x.parameter(what), want[what]);
+            }
         }
     }
 
